@@ -1,0 +1,158 @@
+import java.nio.charset.StandardCharsets;
+import java.util.Arrays;
+
+/** A LyingDisk on the test bench: PATHS and bytes are fed to it, answers are compared with those due. */
+final class Bench {
+    private static int compared = 0;
+    private static int wrong = 0;
+
+    final LyingDisk disk = new LyingDisk();
+
+    /** A new object with a DISK that is MOUNTED. */
+    static Bench mounted(int blocks, int cache) {
+        Bench bench = new Bench();
+        bench.disk.format(blocks);
+        bench.disk.mount(cache);
+        return bench;
+    }
+
+    static void same(String what, long got, long due) {
+        compared++;
+        if (got != due) {
+            wrong++;
+            System.out.println(what + " answered " + got + ", due is " + due);
+        }
+    }
+
+    static void same(String what, String got, String due) {
+        compared++;
+        if (!got.equals(due)) {
+            wrong++;
+            System.out.println(what + " answered '" + got + "', due is '" + due + "'");
+        }
+    }
+
+    static void holds(String what, boolean it) {
+        same(what, it ? "so" : "not so", "so");
+    }
+
+    static void refused(String what, Class<? extends RuntimeException> due, Runnable call) {
+        String got = "nothing";
+        try {
+            call.run();
+        } catch (RuntimeException e) {
+            got = e.getClass().getSimpleName();
+        }
+        same(what + " throws", got, due.getSimpleName());
+    }
+
+    /** Ends a test: prints how it went, exit code 1 if an answer was wrong. */
+    static void finish(String test) {
+        System.out.println(test + ": " + compared + " compared, " + wrong + " wrong");
+        System.exit(wrong == 0 && compared > 0 ? 0 : 1);
+    }
+
+    static byte[] bytes(String text) {
+        return text.getBytes(StandardCharsets.ISO_8859_1);
+    }
+
+    static byte[] joined(byte[] a, byte[] b) {
+        byte[] c = Arrays.copyOf(a, a.length + b.length);
+        System.arraycopy(b, 0, c, a.length, b.length);
+        return c;
+    }
+
+    /** Bytes that differ from block to block and within one. */
+    static byte[] pattern(int length) {
+        byte[] bytes = new byte[length];
+        for (int i = 0; i < length; i++) {
+            bytes[i] = (byte) (i * 7 + i / 256 + 1);
+        }
+        return bytes;
+    }
+
+    Bench tape(byte[] bytes) {
+        for (int at = 0; at < bytes.length; at += 20) {
+            int[] w = new int[5];
+            for (int i = at; i < Math.min(at + 20, bytes.length); i++) {
+                w[(i - at) / 4] |= (bytes[i] & 255) << 24 - 8 * ((i - at) % 4);
+            }
+            disk.feed(w[0], w[1], w[2], w[3], w[4]);
+        }
+        if (bytes.length % 20 != 0) {
+            disk.end(disk.count(0) - (20 - bytes.length % 20));
+        }
+        return this;
+    }
+
+    Bench tape(String text) {
+        return tape(bytes(text));
+    }
+
+    int make(String path, int sort) {
+        return tape(path).disk.make(sort);
+    }
+
+    int remove(String path) {
+        return tape(path).disk.remove();
+    }
+
+    int move(String from, String to) {
+        return tape(from + to).disk.move(from.length());
+    }
+
+    int write(String path, byte[] bytes, int at) {
+        return tape(joined(bytes(path), bytes)).disk.write(path.length(), at);
+    }
+
+    int write(String path, String text, int at) {
+        return write(path, bytes(text), at);
+    }
+
+    int size(String path, int n) {
+        return tape(path).disk.size(n);
+    }
+
+    int read(String path, int at, int n) {
+        return tape(path).disk.read(at, n);
+    }
+
+    int list(String path) {
+        return tape(path).disk.list();
+    }
+
+    int told(String path, int what) {
+        return tape(path).disk.told(what);
+    }
+
+    /** The RESULT as text. */
+    String result() {
+        StringBuilder text = new StringBuilder();
+        for (int i = 0; i < disk.count(11); i++) {
+            text.append((char) disk.result(i));
+        }
+        return text.toString();
+    }
+
+    /** The text that a file holds, or the answer that reading it gave. */
+    String content(String path) {
+        int length = read(path, 0, 4096);
+        return length < 0 ? String.valueOf(length) : result();
+    }
+
+    /** The NAMES in a DIRECTORY in the order of its ENTRIES, each with its INODE's number. */
+    String names(String path) {
+        int entries = list(path);
+        if (entries < 0) {
+            return String.valueOf(entries);
+        }
+        String all = result();
+        StringBuilder text = new StringBuilder();
+        for (int e = 0; e < entries; e++) {
+            int number = all.charAt(32 * e) << 8 | all.charAt(32 * e + 1);
+            int length = all.charAt(32 * e + 2);
+            text.append(e == 0 ? "" : " ").append(all, 32 * e + 3, 32 * e + 3 + length).append('=').append(number);
+        }
+        return text.toString();
+    }
+}
