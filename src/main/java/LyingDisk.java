@@ -53,7 +53,7 @@ public final class LyingDisk {
     private static final int TAPE_BYTES = 65536;
     private static final int FED_BYTES = 20;
     private static final int KEY_BYTES = 32;
-    private static final int LOW_31 = Integer.MAX_VALUE;
+    private static final int LOW_31_BITS = 0x7fffffff;
 
     private final byte[] tape = new byte[TAPE_BYTES];
     private int tapeLength = 0;
@@ -878,7 +878,7 @@ public final class LyingDisk {
         static final int PLACE_IN_ROOT = 16;
         static final int WORDS = MOST_BLOCKS / 32;
         /** Shifted by a block's number it is the block's bit: only the number's low five bits count. */
-        static final int FIRST_BIT = Integer.MIN_VALUE;
+        static final int FIRST_BIT = 0x80000000;
 
         private final int[] working = new int[WORDS];
         private final int[] committed = new int[WORDS];
@@ -1019,7 +1019,7 @@ public final class LyingDisk {
         }
 
         private int lowCommits() {
-            return (int) commits & LOW_31;
+            return (int) commits & LOW_31_BITS;
         }
 
         /** A new DISK, with nothing on it yet. */
@@ -1027,7 +1027,6 @@ public final class LyingDisk {
             forget();
             drive.renew(size);
             cipher.setKey(key);
-            cache.empty(0);
             maps.empty(size);
             makeNone(table, 0);
             makeNone(register, 0);

@@ -67,6 +67,7 @@ public final class RandomRunsTest {
                 wrong++;
             }
         }
+        System.out.println("RandomRunsTest: " + runs + " runs, " + wrong + " wrong");
         System.exit(wrong == 0 ? 0 : 1);
     }
 
