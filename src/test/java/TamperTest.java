@@ -96,6 +96,7 @@ public final class TamperTest {
             Bench.same("planned", bench.disk.flip(60, i, 1, 1 + i % 2), i);
         }
         Bench.refused("the 65th", IllegalStateException.class, () -> bench.disk.flip(60, 0, 1, 1));
+        Bench.refused("the 65th, at once", IllegalStateException.class, () -> bench.disk.flip(60, 0, 1, 0));
         Bench.refused("when comes first", IllegalArgumentException.class, () -> bench.disk.flip(60, 0, 1, -1));
         bench.disk.mount(4);
         Bench.same("half of them are done", bench.disk.count(10), 32);
