@@ -1,10 +1,14 @@
 import java.nio.charset.StandardCharsets;
 import java.util.Arrays;
+import java.util.function.Supplier;
 
 /** A LyingDisk on the test bench: PATHS and bytes are fed to it, answers are compared with those due. */
 final class Bench {
+    static final String[] PATH_CALLS = {"make", "remove", "move", "write", "size", "read", "list", "told"};
+
     private static int compared = 0;
     private static int wrong = 0;
+    private static String sentence = "";
 
     final LyingDisk disk = new LyingDisk();
 
@@ -16,11 +20,16 @@ final class Bench {
         return bench;
     }
 
+    /** The words of the document for which all is compared from here on, and where they stand. */
+    static void says(String where, String words) {
+        sentence = where + " says '" + words + "': ";
+    }
+
     static void same(String what, long got, long due) {
         compared++;
         if (got != due) {
             wrong++;
-            System.out.println(what + " answered " + got + ", due is " + due);
+            System.out.println(sentence + what + " answered " + got + ", due is " + due);
         }
     }
 
@@ -28,7 +37,7 @@ final class Bench {
         compared++;
         if (!got.equals(due)) {
             wrong++;
-            System.out.println(what + " answered '" + got + "', due is '" + due + "'");
+            System.out.println(sentence + what + " answered '" + got + "', due is '" + due + "'");
         }
     }
 
@@ -69,6 +78,25 @@ final class Bench {
             bytes[i] = (byte) (i * 7 + i / 256 + 1);
         }
         return bytes;
+    }
+
+    /** A block's bytes: the run is played twice, since no object is used for more than 512 calls. */
+    static byte[] block(Supplier<Bench> run, int number) {
+        byte[] bytes = new byte[256];
+        for (int half = 0; half < 256; half += 128) {
+            LyingDisk played = run.get().disk;
+            for (int at = half; at < half + 128; at++) {
+                bytes[at] = (byte) played.disk(number, at);
+            }
+        }
+        return bytes;
+    }
+
+    /** How many ACCESSES a call makes. */
+    int spent(Runnable call) {
+        int before = disk.count(2);
+        call.run();
+        return disk.count(2) - before;
     }
 
     Bench tape(byte[] bytes) {
@@ -123,6 +151,28 @@ final class Bench {
 
     int told(String path, int what) {
         return tape(path).disk.told(what);
+    }
+
+    /** A call that takes the TAPE, with arguments that fit. */
+    int call(String name, String path) {
+        switch (name) {
+            case "make":
+                return make(path, 1);
+            case "remove":
+                return remove(path);
+            case "move":
+                return move(path, "moved");
+            case "write":
+                return write(path, "!", 0);
+            case "size":
+                return size(path, 1);
+            case "read":
+                return read(path, 0, 1);
+            case "list":
+                return list(path);
+            default:
+                return told(path, 0);
+        }
     }
 
     /** The RESULT as text. */

@@ -1,0 +1,436 @@
+/** The edges that 'Terms' names: the CACHE, the MAPS, blocks that change, TREES that grow and shrink, COMMIT. */
+public final class BlocksEdgesTest {
+    private BlocksEdgesTest() {
+    }
+
+    public static void main(String[] args) {
+        freshFromMemory();
+        cacheOfTwo();
+        cacheOfSixtyFour();
+        usedLongestAgo();
+        takenLeavesTheCache();
+        leastNumber();
+        freshIsChangedInMemory();
+        oldStaysCommitted();
+        zerosForNone();
+        changedFromThePointerDown();
+        heightGrows();
+        lastBlockShrinks();
+        lastBlockIsNone();
+        wholeBlocksGo();
+        nodesGoAtOnce();
+        heightShrinks();
+        freshIsFreeAgain();
+        nothingToCommit();
+        changesThatCancelOut();
+        commitLeaves();
+        rootIsTaken();
+        everyReadIsVouchedFor();
+        Bench.finish("BlocksEdgesTest");
+    }
+
+    /** A FILE a with the bytes in the top DIRECTORY, COMMITTED; all of the CACHE's blocks are still to be read. */
+    private static Bench committed(int blocks, int cache, int bytes) {
+        Bench bench = Bench.mounted(blocks, 8);
+        bench.make("a", 1);
+        bench.write("a", Bench.pattern(bytes), 0);
+        bench.disk.sync();
+        bench.disk.mount(cache);
+        return bench;
+    }
+
+    private static void freshFromMemory() {
+        Bench.says("Terms", "A block that a POINTER names: FRESH: from memory");
+        Bench bench = Bench.mounted(64, 4);
+        bench.make("a", 1);
+        bench.write("a", Bench.pattern(600), 0);
+        for (int block = 4; block < 16; block++) {
+            bench.disk.flip(block, 0, 255, 0);
+        }
+        int cached = bench.disk.count(7);
+        Bench.same("no access", bench.spent(() -> bench.read("a", 0, 600)), 0);
+        Bench.same("600 bytes", bench.disk.count(11), 600);
+        Bench.same("the last", bench.disk.result(599), Bench.pattern(600)[599] & 255);
+        Bench.same("nor does it come to the cache", bench.disk.count(7), cached);
+    }
+
+    private static void cacheOfTwo() {
+        Bench.says("Terms", "in place of the one used longest ago if there are C");
+        Bench bench = committed(64, 2, 1);
+        bench.disk.power(2);
+        Bench.same("a first block", bench.told("", 0), -2);
+        bench.disk.mount(2);
+        Bench.same("none at first", bench.disk.count(7), 0);
+        Bench.same("the table, the entry, the table again", bench.spent(() -> bench.told("a", 0)), 7);
+        Bench.same("two", bench.disk.count(7), 2);
+        Bench.same("all again", bench.spent(() -> bench.told("a", 0)), 7);
+        Bench.same("two", bench.disk.count(7), 2);
+        Bench three = committed(64, 3, 1);
+        Bench.same("with three: the entry drives one out", three.spent(() -> three.told("a", 0)), 7);
+        Bench.same("three", three.disk.count(7), 3);
+        Bench four = committed(64, 4, 1);
+        Bench.same("with four", four.spent(() -> four.told("a", 0)), 4);
+        Bench.same("and nothing again", four.spent(() -> four.told("a", 0)), 0);
+    }
+
+    private static void cacheOfSixtyFour() {
+        Bench.says("Terms", "it comes to the CACHE, in place of the one used longest ago if there are C");
+        Bench bench = Bench.mounted(256, 8);
+        bench.make("a", 1);
+        for (int i = 0; i < 35; i++) {
+            bench.disk.feed(0x61000000, 1, 2, 3, 4);
+            bench.disk.write(1, 512 * i + 246);
+        }
+        bench.disk.sync();
+        bench.disk.mount(64);
+        bench.told("a", 0);
+        Bench.same("the table and the entry", bench.disk.count(7), 4);
+        // Behind them: the top NODE, a NODE for each 49 DATA blocks, one for each 7, the DATA blocks.
+        for (int i = 0; i < 70; i++) {
+            bench.read("a", 256 * i, 1);
+            int read = 4 + 1 + (i / 49 + 1) + (i / 7 + 1) + (i + 1);
+            Bench.same("with data block " + i, bench.disk.count(7), Math.min(read, 64));
+        }
+        Bench.same("the last one is there", bench.spent(() -> bench.read("a", 256 * 69, 1)), 0);
+        Bench.same("the first is not, nor is its node", bench.spent(() -> bench.read("a", 0, 1)), 2);
+    }
+
+    private static void usedLongestAgo() {
+        Bench.says("Terms", "In the CACHE: that, and it is the one used last");
+        Bench bench = committed(64, 4, 1);
+        bench.size("a", 512);
+        bench.disk.sync();
+        bench.disk.mount(4);
+        Bench.same("the table, the entry", bench.spent(() -> bench.told("a", 0)), 4);
+        Bench.same("the node takes the entry's place", bench.spent(() -> bench.read("a", 256, 1)), 1);
+        Bench.same("the table is there", bench.spent(() -> bench.told("", 0)), 0);
+        Bench.same("the entry is not: it takes the node's place", bench.spent(() -> bench.told("a", 0)), 1);
+        Bench.same("the table is there", bench.spent(() -> bench.told("", 0)), 0);
+        Bench.same("the node is not", bench.spent(() -> bench.read("a", 256, 1)), 1);
+    }
+
+    private static void takenLeavesTheCache() {
+        Bench.says("Terms", "and out of the CACHE, if that has it");
+        Bench bench = Bench.mounted(64, 8);
+        bench.make("a", 1);
+        bench.disk.sync();
+        Bench.same("0, 1 and 2, that are no more used, are in it", bench.disk.count(7), 3);
+        bench.told("a", 0);
+        Bench.same("with 4, 5, 6 and 7", bench.disk.count(7), 7);
+        bench.write("a", "x", 0);
+        Bench.same("0, 1 and 2 are taken again, and 3", bench.disk.count(7), 4);
+        bench.disk.sync();
+        Bench.same("0, 1, 2 are read", bench.spent(() -> bench.told("", 0)), 3);
+        Bench.same("the entry is there", bench.spent(() -> bench.told("a", 0)), 0);
+        Bench.same("and the new bytes are read", bench.content("a"), "x");
+    }
+
+    private static void leastNumber() {
+        Bench.says("Terms", "the least number that neither MAP has as used");
+        Bench bench = Bench.mounted(64, 8);
+        // The fourth needs another block of the TABLE: 0 1 2 3 and 8, so that ROOT's is 10.
+        int[] roots = {8, 9, 8, 10};
+        for (int i = 0; i < 4; i++) {
+            bench.make("f" + i, 1);
+            bench.disk.sync();
+            Bench.same("ROOT of commit " + (i + 2), bench.disk.count(9), roots[i]);
+        }
+    }
+
+    private static void freshIsChangedInMemory() {
+        Bench.says("Terms", "Changing a block: FRESH: in memory");
+        Bench bench = committed(64, 8, 1);
+        bench.write("a", "x", 0);
+        Bench.same("the table and the data block", bench.disk.count(6), 4);
+        int free = bench.disk.count(5);
+        bench.write("a", "y", 0);
+        bench.write("a", "z", 255);
+        Bench.same("nothing more", bench.disk.count(6), 4);
+        Bench.same("nothing more", bench.disk.count(5), free);
+    }
+
+    private static void oldStaysCommitted() {
+        Bench.says("Terms", "the old one is no more used in the WORKING MAP (but in the COMMITTED one)");
+        Bench bench = committed(64, 8, 1);
+        int free = bench.disk.count(5);
+        bench.write("a", "x", 0);
+        Bench.same("4 are taken", bench.disk.count(5), free - 4);
+        bench.disk.off();
+        bench.disk.mount(8);
+        Bench.same("what was committed is there", bench.content("a"), "\1");
+        bench.write("a", "x", 0);
+        bench.disk.sync();
+        Bench.same("the old ones are free", bench.disk.count(5), free);
+    }
+
+    private static void zerosForNone() {
+        Bench.says("Terms", "for NONE zeros, a NODE's 7 TREES being NONE");
+        Bench bench = Bench.mounted(64, 8);
+        bench.make("a", 1);
+        bench.make("b", 1);
+        bench.write("a", Bench.pattern(300), 0);
+        bench.size("a", 0);
+        bench.size("b", 1792);
+        bench.write("b", "x", 700);
+        bench.read("b", 512, 256);
+        Bench.same("zeros, though the memory was used before", bench.result(), "\0".repeat(188) + "x" + "\0".repeat(67));
+        bench.disk.sync();
+        bench.disk.mount(8);
+        Bench.same("the other trees", bench.read("b", 0, 1792), 1792);
+        Bench.same("are NONE", bench.result(), "\0".repeat(700) + "x" + "\0".repeat(1091));
+    }
+
+    private static boolean isWritten(Bench bench, int block) {
+        return bench.disk.disk(block, 0) + bench.disk.disk(block, 1) + bench.disk.disk(block, 2) > 0;
+    }
+
+    private static void changedFromThePointerDown() {
+        Bench.says("Terms", "A TREE is changed from its POINTER down: each NODE on the way, then the DATA block");
+        // TABLE 4 5 6, ENTRY 7, then the FILE's: the top NODE 8, a NODE 9, the DATA block 10.
+        int[] order = {7, 10, 9, 8, 6, 5, 4, 11};
+        for (int stop = 1; stop <= order.length; stop++) {
+            Bench bench = Bench.mounted(256, 8);
+            bench.make("a", 1);
+            bench.size("a", 12544);
+            bench.write("a", "x", 0);
+            bench.disk.power(stop);
+            Bench.same("power(" + stop + ")", bench.disk.sync(), -2);
+            for (int i = 0; i < order.length; i++) {
+                Bench.holds("power(" + stop + "), block " + order[i], isWritten(bench, order[i]) == i + 1 < stop);
+            }
+        }
+    }
+
+    private static void heightGrows() {
+        Bench.says("Terms", "as often as needed a block is TAKEN for a NODE whose first TREE is the old one");
+        int[] sizes = {256, 257, 1792, 1793, 12544, 12545, 65536};
+        int[] due = {0, 1, 1, 2, 2, 3, 3};
+        for (int i = 0; i < sizes.length; i++) {
+            Bench bench = Bench.mounted(1024, 8);
+            bench.make("a", 1);
+            bench.make("none", 1);
+            bench.write("a", "x", 0);
+            bench.disk.sync();
+            bench.disk.mount(8);
+            bench.told("a", 0);
+            int size = sizes[i];
+            Bench.same("no block is read for " + size, bench.spent(() -> bench.size("a", size)), 0);
+            Bench.same("the table and the nodes for " + sizes[i], bench.disk.count(6), 3 + due[i]);
+            bench.read("a", 0, 2);
+            Bench.same("the first tree is the old one", bench.result(), "x\0");
+            Bench.says("Terms", "nothing is TAKEN if the TREE is NONE");
+            bench.size("none", sizes[i]);
+            Bench.same("nothing for " + sizes[i], bench.disk.count(6), 3 + due[i]);
+            Bench.same("height", bench.told("none", 3), due[i]);
+        }
+    }
+
+    private static void lastBlockShrinks() {
+        Bench.says("Terms", "bytes behind the new size in its last DATA block become 0 "
+            + "(if that block is not NONE; size a multiple of 256: nothing)");
+        int[] sizes = {513, 512, 511, 257, 256, 255, 1};
+        // The NODE is read, and the block that has the new end; FRESH: the TABLE, a NODE, that block.
+        int[] read = {2, 1, 2, 2, 1, 2, 2};
+        int[] fresh = {5, 4, 5, 5, 3, 4, 4};
+        for (int i = 0; i < sizes.length; i++) {
+            Bench bench = committed(64, 8, 600);
+            int size = sizes[i];
+            bench.told("a", 0);
+            Bench.same("reads for " + size, bench.spent(() -> bench.size("a", size)), read[i]);
+            Bench.same("fresh for " + size, bench.disk.count(6), fresh[i]);
+            bench.size("a", 600);
+            bench.read("a", 0, 600);
+            String due = new String(Bench.pattern(600), java.nio.charset.StandardCharsets.ISO_8859_1);
+            Bench.same("bytes", bench.result(), due.substring(0, size) + "\0".repeat(600 - size));
+        }
+    }
+
+    private static void lastBlockIsNone() {
+        Bench.says("Terms", "if that block is not NONE");
+        Bench bench = Bench.mounted(64, 8);
+        bench.make("a", 1);
+        bench.size("a", 1792);
+        bench.write("a", "x", 0);
+        bench.disk.sync();
+        bench.disk.mount(8);
+        bench.told("a", 0);
+        Bench.same("the node alone is read", bench.spent(() -> bench.size("a", 1000)), 1);
+        Bench.same("the table alone is fresh", bench.disk.count(6), 3);
+        Bench.same("size", bench.told("a", 1), 1000);
+        Bench hollow = Bench.mounted(64, 8);
+        hollow.make("a", 1);
+        hollow.size("a", 1000);
+        Bench.same("a tree that is NONE", hollow.size("a", 100), 100);
+        Bench.same("stays NONE", hollow.disk.count(6), 4);
+    }
+
+    private static void wholeBlocksGo() {
+        Bench.says("Terms", "for each whole DATA block, in falling order, that is not NONE: "
+            + "it is no more used, and its POINTER becomes NONE (the NODES on the way are changed)");
+        Bench bench = committed(64, 8, 1025);
+        Bench.same("5 data blocks, a node, the table, the entry, ROOT", bench.disk.count(5), 64 - 11);
+        bench.size("a", 1024);
+        Bench.same("the table and the node are changed", bench.disk.count(6), 4);
+        bench.disk.sync();
+        Bench.same("one data block went", bench.disk.count(5), 64 - 10);
+        bench.size("a", 513);
+        bench.disk.sync();
+        Bench.same("one more: the third has a byte", bench.disk.count(5), 64 - 9);
+        bench.size("a", 512);
+        bench.disk.sync();
+        Bench.same("now it went", bench.disk.count(5), 64 - 8);
+        bench.size("a", 257);
+        bench.disk.sync();
+        Bench.same("none", bench.disk.count(5), 64 - 8);
+        bench.size("a", 256);
+        bench.disk.sync();
+        Bench.same("a data block and the node", bench.disk.count(5), 64 - 6);
+        bench.size("a", 0);
+        bench.disk.sync();
+        Bench.same("the last one", bench.disk.count(5), 64 - 5);
+    }
+
+    private static void nodesGoAtOnce() {
+        Bench.says("Terms", "a NODE, all of whose TREES are NONE, likewise, at once");
+        Bench bench = Bench.mounted(1024, 8);
+        bench.make("a", 1);
+        bench.size("a", 65536);
+        bench.write("a", "x", 256 * 7);
+        bench.write("a", "x", 256 * 49);
+        bench.write("a", "x", 256 * 50);
+        // TABLE and ENTRY 4; the top NODE; a NODE, a NODE, DATA block 7; a NODE, a NODE, DATA blocks 49 and 50.
+        Bench.same("fresh", bench.disk.count(6), 12);
+        bench.size("a", 256 * 50);
+        Bench.same("data block 50 alone: its node has another", bench.disk.count(6), 11);
+        bench.size("a", 256 * 50 - 1);
+        Bench.same("data block 49 has bytes", bench.disk.count(6), 11);
+        bench.size("a", 256 * 49 + 1);
+        Bench.same("data block 49 has a byte", bench.disk.count(6), 11);
+        bench.size("a", 256 * 49);
+        Bench.same("data block 49, its two nodes, and the top one for the height", bench.disk.count(6), 7);
+        bench.size("a", 256 * 8);
+        Bench.same("nothing behind data block 7", bench.disk.count(6), 7);
+        bench.size("a", 256 * 7);
+        Bench.same("data block 7 and its nodes", bench.disk.count(6), 4);
+    }
+
+    private static void heightShrinks() {
+        Bench.says("Terms", "while the height is above the least: the first TREE of the top NODE becomes the TREE, "
+            + "and that NODE is no more used (NONE stays NONE)");
+        int[] sizes = {12545, 12544, 1793, 1792, 257, 256, 1};
+        int[] due = {3, 2, 2, 1, 1, 0, 0};
+        for (int i = 0; i < sizes.length; i++) {
+            Bench bench = Bench.mounted(1024, 8);
+            bench.make("a", 1);
+            bench.make("none", 1);
+            bench.write("a", "x", 0);
+            bench.size("a", 65536);
+            bench.size("none", 65536);
+            bench.disk.sync();
+            int used = 1024 - bench.disk.count(5);
+            bench.size("a", sizes[i]);
+            bench.size("none", sizes[i]);
+            Bench.same("height", bench.told("a", 3), due[i]);
+            Bench.same("height of NONE", bench.told("none", 3), due[i]);
+            bench.disk.sync();
+            Bench.same("nodes that went for " + sizes[i], used - (1024 - bench.disk.count(5)), 3 - due[i]);
+            bench.disk.mount(2);
+            bench.read("a", 0, 1);
+            Bench.same("the first tree", bench.result(), "x");
+            bench.read("none", 0, 1);
+            Bench.same("NONE", bench.result(), "\0");
+        }
+    }
+
+    private static void freshIsFreeAgain() {
+        Bench.says("Terms", "A block that is no more used is not FRESH any more; a block that was FRESH is FREE then");
+        Bench bench = Bench.mounted(64, 8);
+        bench.make("a", 1);
+        int free = bench.disk.count(5);
+        int fresh = bench.disk.count(6);
+        bench.write("a", Bench.pattern(300), 0);
+        Bench.same("a node and two data blocks", bench.disk.count(5), free - 3);
+        bench.size("a", 0);
+        Bench.same("free again", bench.disk.count(5), free);
+        Bench.same("not fresh any more", bench.disk.count(6), fresh);
+        bench.write("a", Bench.pattern(300), 0);
+        bench.disk.sync();
+        int committed = bench.disk.count(5);
+        bench.size("a", 0);
+        Bench.same("the table's 3 were taken, what was committed is not free", bench.disk.count(5), committed - 3);
+        bench.disk.sync();
+        Bench.same("now it is", bench.disk.count(5), committed + 3);
+    }
+
+    private static void nothingToCommit() {
+        Bench.says("Terms", "COMMIT, if there is anything FRESH or a file was changed");
+        Bench bench = committed(64, 8, 5);
+        int accesses = bench.disk.count(2);
+        Bench.same("sync", bench.disk.sync(), 2);
+        Bench.same("no access", bench.disk.count(2), accesses);
+        bench.read("a", 0, 5);
+        bench.list("");
+        bench.told("a", 0);
+        bench.write("a", "", 9);
+        bench.size("a", 5);
+        Bench.same("calls that change nothing", bench.disk.sync(), 2);
+        Bench.same("nothing is fresh", bench.disk.count(6), 0);
+        bench.size("a", 4);
+        Bench.same("one that does", bench.disk.sync(), 3);
+    }
+
+    private static void changesThatCancelOut() {
+        Bench.says("Terms", "if there is anything FRESH or a file was changed (which always leaves something FRESH)");
+        Bench bench = Bench.mounted(64, 8);
+        bench.make("a", 1);
+        bench.remove("a");
+        Bench.same("the table is fresh", bench.disk.count(6), 3);
+        Bench.same("sync", bench.disk.sync(), 2);
+        bench.make("b", 1);
+        bench.disk.sync();
+        bench.move("b", "c");
+        bench.move("c", "b");
+        Bench.same("the table and the entry are fresh", bench.disk.count(6), 4);
+        Bench.same("sync", bench.disk.sync(), 4);
+    }
+
+    private static void commitLeaves() {
+        Bench.says("Terms", "Nothing is FRESH then, the WORKING MAP is the COMMITTED one. The CACHE stays");
+        Bench bench = committed(64, 8, 5);
+        bench.write("a", "x", 0);
+        int cached = bench.disk.count(7);
+        Bench.same("the table, the entry and the data block", cached, 5);
+        bench.disk.sync();
+        Bench.same("nothing is fresh", bench.disk.count(6), 0);
+        Bench.same("the cache stays", bench.disk.count(7), cached);
+        Bench.same("free: all but the table, the entry, the data block, ROOT", bench.disk.count(5), 64 - 6);
+        Bench.same("the table and the data block are read, the entry is there",
+            bench.spent(() -> bench.read("a", 0, 1)), 4);
+    }
+
+    private static void rootIsTaken() {
+        Bench.says("Terms", "then a block is TAKEN for ROOT, the old ROOT's is no more used");
+        Bench bench = Bench.mounted(64, 8);
+        bench.make("a", 1);
+        bench.disk.sync();
+        Bench.same("ROOT", bench.disk.count(9), 8);
+        bench.write("a", "x", 0);
+        Bench.same("0, 1 and 2 for the table, 3 for the data block", bench.disk.count(6), 4);
+        bench.disk.sync();
+        Bench.same("ROOT: 4, 5, 6, 7 and 8 were still used", bench.disk.count(9), 9);
+    }
+
+    private static void everyReadIsVouchedFor() {
+        Bench.says("Terms", "its DIGEST must be the POINTER's, else TAMPERED");
+        for (int access = 1; access <= 6; access++) {
+            Bench bench = committed(64, 8, 300);
+            // A read of both DATA blocks: the TABLE's 3, the ENTRY, the NODE, the DATA blocks.
+            int[] order = {4, 5, 6, 7, 8, 9, 10};
+            bench.disk.flip(order[access], 200, 16, access);
+            Bench.same("altered one read before", bench.read("a", 0, 300), -1);
+            Bench late = committed(64, 8, 300);
+            late.disk.flip(order[access - 1], 200, 16, access + 1);
+            Bench.same("altered one read behind", late.read("a", 0, 300), 300);
+        }
+    }
+}
