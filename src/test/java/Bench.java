@@ -105,10 +105,10 @@ final class Bench {
             for (int i = at; i < Math.min(at + 20, bytes.length); i++) {
                 w[(i - at) / 4] |= (bytes[i] & 255) << 24 - 8 * ((i - at) % 4);
             }
-            disk.feed(w[0], w[1], w[2], w[3], w[4]);
-        }
-        if (bytes.length % 20 != 0) {
-            disk.end(disk.count(0) - (20 - bytes.length % 20));
+            int length = disk.feed(w[0], w[1], w[2], w[3], w[4]);
+            if (bytes.length - at < 20) {
+                disk.end(length - 20 + bytes.length - at);
+            }
         }
         return this;
     }
@@ -177,8 +177,12 @@ final class Bench {
 
     /** The RESULT as text. */
     String result() {
+        return result(0, disk.count(11));
+    }
+
+    String result(int from, int to) {
         StringBuilder text = new StringBuilder();
-        for (int i = 0; i < disk.count(11); i++) {
+        for (int i = from; i < to; i++) {
             text.append((char) disk.result(i));
         }
         return text.toString();
@@ -196,12 +200,11 @@ final class Bench {
         if (entries < 0) {
             return String.valueOf(entries);
         }
-        String all = result();
         StringBuilder text = new StringBuilder();
         for (int e = 0; e < entries; e++) {
-            int number = all.charAt(32 * e) << 8 | all.charAt(32 * e + 1);
-            int length = all.charAt(32 * e + 2);
-            text.append(e == 0 ? "" : " ").append(all, 32 * e + 3, 32 * e + 3 + length).append('=').append(number);
+            int number = disk.result(32 * e) << 8 | disk.result(32 * e + 1);
+            int end = 32 * e + 3 + disk.result(32 * e + 2);
+            text.append(e == 0 ? "" : " ").append(result(32 * e + 3, end)).append('=').append(number);
         }
         return text.toString();
     }

@@ -177,7 +177,9 @@ public final class BlocksEdgesTest {
         bench.disk.sync();
         bench.disk.mount(8);
         Bench.same("the other trees", bench.read("b", 0, 1792), 1792);
-        Bench.same("are NONE", bench.result(), "\0".repeat(700) + "x" + "\0".repeat(1091));
+        for (int i = 0; i < 1792; i += 28) {
+            Bench.same("byte " + i, bench.disk.result(i), i == 700 ? 'x' : 0);
+        }
     }
 
     private static boolean isWritten(Bench bench, int block) {
@@ -239,9 +241,10 @@ public final class BlocksEdgesTest {
             Bench.same("reads for " + size, bench.spent(() -> bench.size("a", size)), read[i]);
             Bench.same("fresh for " + size, bench.disk.count(6), fresh[i]);
             bench.size("a", 600);
-            bench.read("a", 0, 600);
-            String due = new String(Bench.pattern(600), java.nio.charset.StandardCharsets.ISO_8859_1);
-            Bench.same("bytes", bench.result(), due.substring(0, size) + "\0".repeat(600 - size));
+            bench.read("a", size - 1, 257);
+            Bench.same("the last byte of " + size, bench.disk.result(0), Bench.pattern(600)[size - 1] & 255);
+            int behind = bench.disk.count(11) - 1;
+            Bench.same("behind it", bench.result(1, 1 + behind), "\0".repeat(Math.min(256, 600 - size)));
         }
     }
 

@@ -35,8 +35,8 @@ public final class BytesTest {
         bench.disk.sync();
         bench.disk.mount(2);
         Bench.same("read", bench.read("a", 0, 260), 260);
-        Bench.same("content", bench.result().substring(0, 9), "hELlo\0\0\0x");
-        Bench.same("content", bench.result().substring(253), "\0abcd\0\0");
+        Bench.same("content", bench.result(0, 9), "hELlo\0\0\0x");
+        Bench.same("content", bench.result(253, 260), "\0abcd\0\0");
     }
 
     private static void writeWrong() {
@@ -60,14 +60,20 @@ public final class BytesTest {
         Bench.same("write(2, 0): a name and nothing to write", bench.disk.write(2, 0), -5);
     }
 
-    private static void writeWhenFull() {
+    private static Bench withFree59() {
         Bench bench = Bench.mounted(64, 4);
         bench.make("a", 1);
         bench.disk.sync();
         Bench.same("FREE", bench.disk.count(5), 59);
-        Bench.same("18 blocks need 60", bench.write("a", Bench.pattern(256 * 17 + 1), 0), -9);
-        Bench.same("18 blocks need 60", bench.write("a", Bench.pattern(256 * 16 + 2), 255), -9);
-        Bench.same("nothing has changed", bench.disk.count(6), 0);
+        return bench;
+    }
+
+    private static void writeWhenFull() {
+        Bench few = withFree59();
+        Bench.same("18 blocks need 60", few.write("a", Bench.pattern(256 * 17 + 1), 0), -9);
+        Bench.same("18 blocks need 60", few.write("a", Bench.pattern(256 * 16 + 2), 255), -9);
+        Bench.same("nothing has changed", few.disk.count(6), 0);
+        Bench bench = withFree59();
         Bench.same("17 blocks need 58", bench.write("a", Bench.pattern(256 * 17), 0), 4352);
         Bench.same("-10 comes before -9", bench.write("a", Bench.pattern(256), 65400), -10);
         while (bench.disk.count(5) >= 26) {
@@ -214,8 +220,15 @@ public final class BytesTest {
         Bench.same("the next one", bench.result(), "c");
     }
 
-    /** Many writes and sizes, compared with an array that has the same done to it. */
+    /** The same run on new objects, each of which is asked for some of the bytes. */
     private static void againstPlainBytes() {
+        for (int part = 0; part < 40; part++) {
+            againstPlainBytes(part);
+        }
+    }
+
+    /** Many writes and sizes, compared with an array that has the same done to it. */
+    private static void againstPlainBytes(int part) {
         Bench bench = Bench.mounted(512, 5);
         bench.make("a", 1);
         byte[] due = new byte[0];
@@ -238,7 +251,7 @@ public final class BytesTest {
         for (int from = 0; from < due.length; from += 4096) {
             int length = bench.read("a", from, 4096);
             Bench.same("read", length, Math.min(4096, due.length - from));
-            for (int i = 0; i < length; i++) {
+            for (int i = part; i < length; i += 97) {
                 Bench.same("byte " + (from + i), bench.disk.result(i), due[from + i] & 255);
             }
         }

@@ -554,7 +554,7 @@ public final class CallsEdgesTest {
     }
 
     private static void sizeArgument() {
-        Bench.says("Promise 12", "its size becomes n: n. -7: a DIRECTORY; -10: n is above 65,536. "
+        Bench.says("Promise 12", "its size becomes n ... : n. -7: a DIRECTORY; -10: n is above 65,536. "
             + "IllegalArgumentException: n is below 0");
         Bench bench = Bench.mounted(1024, 8);
         bench.make("f", 1);
@@ -588,7 +588,7 @@ public final class CallsEdgesTest {
     }
 
     private static void readArguments() {
-        Bench.says("Promise 13", "its bytes from there on, at most n, 0 .. 4096, are the RESULT: how many. "
+        Bench.says("Promise 13", "its bytes from there on, at most n, 0 .. 4096, are the RESULT: how many ... . "
             + "-7: a DIRECTORY. IllegalArgumentException: another n, or at is below 0");
         Bench bench = withBoth();
         bench.size("f", 4100);

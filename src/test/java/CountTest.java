@@ -62,24 +62,27 @@ public final class CountTest {
         Bench.refused("register(-1)", IndexOutOfBoundsException.class, () -> bench.disk.register(-1));
         Bench.refused("register(32)", IndexOutOfBoundsException.class, () -> bench.disk.register(32));
         Bench.refused("register(31)", IllegalStateException.class, () -> bench.disk.register(31));
-        bench.disk.format(64);
-        for (int round = 0; round < 2; round++) {
-            byte[] root = new byte[256];
-            for (int at = 0; at < 256; at++) {
-                root[at] = (byte) bench.disk.disk(bench.disk.count(9), at);
-            }
-            byte[] digest = Model.Crypto.sha(root);
+        for (int commits = 1; commits <= 3; commits++) {
+            int times = commits;
+            Bench last = committedTimes(times);
+            byte[] digest = Model.Crypto.sha(Bench.block(() -> committedTimes(times), last.disk.count(9)));
             for (int i = 0; i < 32; i++) {
-                Bench.same("register(" + i + ")", bench.disk.register(i), digest[i] & 255);
+                Bench.same("register(" + i + ")", last.disk.register(i), digest[i] & 255);
             }
-            bench.disk.mount(2);
-            bench.make("a", 1);
-            int before = bench.disk.register(0);
-            bench.disk.flip(bench.disk.count(9), 0, 1, 0);
-            Bench.same("it is not on the disk", bench.disk.register(0), before);
+            last.disk.flip(last.disk.count(9), 0, 1, 0);
+            Bench.same("it is not on the disk", last.disk.register(0), digest[0] & 255);
+        }
+        bench.disk.format(64);
+        Bench.refused("register(32)", IndexOutOfBoundsException.class, () -> bench.disk.register(32));
+    }
+
+    private static Bench committedTimes(int commits) {
+        Bench bench = Bench.mounted(64, 2);
+        for (int i = 2; i <= commits; i++) {
+            bench.make("f" + i, 1);
             bench.disk.sync();
         }
-        Bench.refused("register(32)", IndexOutOfBoundsException.class, () -> bench.disk.register(32));
+        return bench;
     }
 
     /** A committed d/f, not yet read again; the cache is large. */

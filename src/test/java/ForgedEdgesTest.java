@@ -105,7 +105,7 @@ public final class ForgedEdgesTest {
     }
 
     private static void nodePointers() {
-        Bench.says("Terms", "each POINTER in it that is not NONE must name a block of the DISK "
+        Bench.says("Terms", "each POINTER in it that is not NONE ... must name a block of the DISK "
             + "that the COMMITTED MAP has as used: else TAMPERED");
         int[] numbers = {-1, 4, 11, 0, 12, 63, 64, 0x7fffffff, 0x80000004};
         int[] due = {2, 2, 2, -1, -1, -1, -1, -1, -1};

@@ -50,7 +50,7 @@ public final class HandsEdgesTest {
     }
 
     private static void resultRange() {
-        Bench.says("Promise 17", "Byte i (0 .. 255 is its range) of the last RESULT. "
+        Bench.says("Promise 17", "Byte i (0 .. 255 is its range) of the last RESULT ... . "
             + "IndexOutOfBoundsException: there is none");
         Bench bench = withFile();
         refusedAll("no result yet", IndexOutOfBoundsException.class, new int[] {LEAST, -1, 0, 1, MOST}, bench.disk::result);
@@ -165,7 +165,7 @@ public final class HandsEdgesTest {
     }
 
     private static void flipPlanned() {
-        Bench.says("Promise 19", "else before the when-th ACCESS from now on: how many flips are planned, with this one");
+        Bench.says("Promise 19", "else before the when-th ACCESS from now on ... : how many flips are planned, with this one");
         LyingDisk disk = withFile().disk;
         Bench.same("first", disk.flip(63, 0, 1, 1), 1);
         Bench.same("second", disk.flip(63, 0, 2, 2), 2);

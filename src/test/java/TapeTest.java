@@ -40,16 +40,6 @@ public final class TapeTest {
         Bench.same("write", bench.disk.write(1, 0), 11);
         Bench.same("the bytes of each number, the highest first", bench.content("a"),
             "\u0001\u0002\u0003\u0004\u007f\u0080\u00ff\0\0\0\t");
-
-        LyingDisk full = new LyingDisk();
-        for (int i = 1; i <= 3276; i++) {
-            full.feed(1, 2, 3, 4, 5);
-        }
-        Bench.same("count(0)", full.count(0), 65520);
-        Bench.refused("feed without room", IllegalStateException.class, () -> full.feed(0, 0, 0, 0, 0));
-        Bench.same("count(0)", full.count(0), 65520);
-        full.end(65516);
-        Bench.same("feed with just enough room", full.feed(1, 2, 3, 4, 5), 65536);
     }
 
     private static void end() {

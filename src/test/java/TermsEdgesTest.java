@@ -456,8 +456,9 @@ public final class TermsEdgesTest {
         String[] wrong = {"/", "//", "/d", "d/", "d//x", "n" + longest, "d/n" + longest, "\0", "d\0", "d/\0", "\0d",
             longest + "n/x", "d/x/", "n".repeat(300)};
         for (String path : wrong) {
+            Bench other = withBoth();
             for (String name : Bench.PATH_CALLS) {
-                Bench.same(name + " of '" + path.replace('\0', '0') + "'", bench.call(name, path), -4);
+                Bench.same(name + " of '" + path.replace('\0', '0') + "'", other.call(name, path), -4);
             }
         }
         int number = 5;
