@@ -459,6 +459,19 @@ public final class AnswersEdgesTest {
             String name = names[i];
             Bench.same("reads for " + name, bench.spent(() -> bench.told(name, 0)), due[i]);
         }
+        // A CACHE of two holds nothing but what was read last.
+        Bench.same("56 entries: a node, 7 data blocks", readsForNone(56), 3 + 1 + 7);
+        Bench.same("57 entries: two nodes for each of 8 data blocks", readsForNone(57), 3 + 3 * 8);
+    }
+
+    private static int readsForNone(int entries) {
+        Bench bench = Bench.mounted(128, 8);
+        for (int number = 1; number <= entries; number++) {
+            makeLong(bench, false, number);
+        }
+        bench.disk.sync();
+        bench.disk.mount(2);
+        return bench.spent(() -> Bench.same("not there", bench.told("n", 0), -5));
     }
 
     private static void followedToItsEnd() {
@@ -579,5 +592,31 @@ public final class AnswersEdgesTest {
             Bench.same("reads to remove " + name, bench.spent(() -> bench.remove(name)), reads[i]);
             Bench.same("fresh to remove " + name, bench.disk.count(6), fresh[i]);
         }
+        lastEntryIsNotChanged();
+        for (int gone : new int[] {1, 8, 9, 12, 17, 19}) {
+            Bench bench = withTwenty(8);
+            Bench.same("remove", bench.remove("f" + gone), gone);
+            StringBuilder due = new StringBuilder();
+            for (int i = 1; i <= 19; i++) {
+                int name = i == gone ? 20 : i;
+                due.append(i == 1 ? "" : " ").append("f").append(name).append("=").append(name);
+            }
+            Bench.same("the last one is in its place", bench.names(""), due.toString());
+        }
+    }
+
+    private static void lastEntryIsNotChanged() {
+        Bench bench = Bench.mounted(64, 16);
+        bench.make("a", 1);
+        bench.disk.sync();
+        bench.write("a", "x", 0);
+        bench.disk.sync();
+        bench.move("a", "b");
+        bench.disk.sync();
+        bench.told("b", 0);
+        // 0 1 2 7 are no more used, 4 5 6 are the TABLE, 8 has the ENTRY: the TABLE takes 0 1 2 again.
+        Bench.same("the cache", bench.disk.count(7), 8);
+        bench.remove("b");
+        Bench.same("7 was not taken for the entries", bench.disk.count(7), 5);
     }
 }

@@ -14,6 +14,7 @@ public final class BlocksEdgesTest {
         oldStaysCommitted();
         zerosForNone();
         changedFromThePointerDown();
+        onlyNodesHaveTrees();
         heightGrows();
         lastBlockShrinks();
         lastBlockIsNone();
@@ -68,6 +69,14 @@ public final class BlocksEdgesTest {
         Bench three = committed(64, 3, 1);
         Bench.same("with three: the entry drives one out", three.spent(() -> three.told("a", 0)), 7);
         Bench.same("three", three.disk.count(7), 3);
+        Bench high = Bench.mounted(64, 8);
+        high.make("a", 1);
+        high.size("a", 1792);
+        high.size("a", 1793);
+        high.write("a", "xyz", 0);
+        high.disk.sync();
+        high.disk.mount(2);
+        Bench.same("two nodes and a data block, once for all its bytes", high.spent(() -> high.read("a", 0, 3)), 7 + 3);
         Bench four = committed(64, 4, 1);
         Bench.same("with four", four.spent(() -> four.told("a", 0)), 4);
         Bench.same("and nothing again", four.spent(() -> four.told("a", 0)), 0);
@@ -77,10 +86,7 @@ public final class BlocksEdgesTest {
         Bench.says("Terms", "it comes to the CACHE, in place of the one used longest ago if there are C");
         Bench bench = Bench.mounted(256, 8);
         bench.make("a", 1);
-        for (int i = 0; i < 35; i++) {
-            bench.disk.feed(0x61000000, 1, 2, 3, 4);
-            bench.disk.write(1, 512 * i + 246);
-        }
+        fillSeventy(bench, 1);
         bench.disk.sync();
         bench.disk.mount(64);
         bench.told("a", 0);
@@ -123,6 +129,22 @@ public final class BlocksEdgesTest {
         Bench.same("0, 1, 2 are read", bench.spent(() -> bench.told("", 0)), 3);
         Bench.same("the entry is there", bench.spent(() -> bench.told("a", 0)), 0);
         Bench.same("and the new bytes are read", bench.content("a"), "x");
+        Bench others = Bench.mounted(64, 8);
+        for (int i = 1; i <= 7; i++) {
+            others.make("f" + i, 1);
+        }
+        others.disk.sync();
+        others.disk.mount(9);
+        others.write("f1", "x", 0);
+        others.disk.sync();
+        others.read("f1", 0, 1);
+        others.told("f5", 0);
+        Bench.same("three that are no more used, and six", others.disk.count(7), 9);
+        others.make("f8", 1);
+        Bench.same("the three are taken", others.disk.count(7), 6);
+        others.disk.sync();
+        Bench.same("the table and the entries drive out the data block", others.spent(() -> others.told("f1", 0)), 4);
+        Bench.same("the inodes of f5 were used behind it", others.spent(() -> others.told("f5", 0)), 0);
     }
 
     private static void leastNumber() {
@@ -161,6 +183,32 @@ public final class BlocksEdgesTest {
         bench.write("a", "x", 0);
         bench.disk.sync();
         Bench.same("the old ones are free", bench.disk.count(5), free);
+        Bench large = Bench.mounted(256, 8);
+        large.make("a", 1);
+        fillSeventy(large, 1);
+        large.disk.sync();
+        // 70 DATA blocks, 13 NODES, the TABLE, the ENTRY, ROOT.
+        Bench.same("free", large.disk.count(5), 256 - 88);
+        fillSeventy(large, 2);
+        Bench.same("as many are fresh, but the entry", large.disk.count(6), 86);
+        Bench.same("none of them was used before", large.disk.count(5), 256 - 88 - 86);
+        large.disk.off();
+        large.disk.mount(8);
+        for (int i = 0; i < 35; i++) {
+            large.read("a", 512 * i + 254, 4);
+            Bench.same("what was committed is there", large.result(), "\0\0\1\0");
+        }
+        fillSeventy(large, 3);
+        large.disk.sync();
+        Bench.same("the old ones are free", large.disk.count(5), 256 - 88);
+    }
+
+    /** Bytes in 70 DATA blocks of a. */
+    private static void fillSeventy(Bench bench, int value) {
+        for (int i = 0; i < 35; i++) {
+            bench.disk.feed(0x61000000, 0, value, 0, 0);
+            bench.disk.write(1, 512 * i + 246);
+        }
     }
 
     private static void zerosForNone() {
@@ -200,6 +248,23 @@ public final class BlocksEdgesTest {
             for (int i = 0; i < order.length; i++) {
                 Bench.holds("power(" + stop + "), block " + order[i], isWritten(bench, order[i]) == i + 1 < stop);
             }
+        }
+    }
+
+    private static void onlyNodesHaveTrees() {
+        Bench.says("Terms", "WRITTEN: of a NODE first the TREES whose POINTERS name FRESH blocks, in order");
+        Bench bench = Bench.mounted(64, 8);
+        bench.make("a", 1);
+        bench.size("a", 512);
+        // A DATA block whose bytes read like POINTERS to blocks that are FRESH: 4 .. 8.
+        for (int i = 0; i < 7; i++) {
+            bench.tape(Bench.joined(Bench.bytes("a"), new byte[] {0, 0, 0, (byte) (4 + i % 5)})).disk.write(1, 36 * i);
+        }
+        Bench.same("accesses: 6 blocks, ROOT, the register", bench.spent(bench.disk::sync), 8);
+        bench.disk.mount(8);
+        bench.read("a", 0, 256);
+        for (int i = 0; i < 256; i++) {
+            Bench.same("byte " + i, bench.disk.result(i), i < 252 && i % 36 == 3 ? 4 + i / 36 % 5 : 0);
         }
     }
 

@@ -62,6 +62,11 @@ final class Forge {
         });
     }
 
+    /** A byte of the REGISTER's DIGEST becomes another one. */
+    void alterRegister(int i) {
+        register[1 + i / 4] ^= 1 << 8 * (i % 4);
+    }
+
     byte[] root() {
         return deciphered(register[0]);
     }

@@ -26,6 +26,7 @@ public final class ForgedEdgesTest {
         nodePointers();
         inodePointers();
         filePointers();
+        digests();
         pointersFromTheCache();
         freeInodesPointers();
         sorts();
@@ -97,6 +98,14 @@ public final class ForgedEdgesTest {
         Bench unused = withBoth();
         Forge.of(unused.disk).moveTable(63);
         Bench.same("the last block, not used", unused.disk.mount(8), -1);
+        Bench large = new Bench();
+        large.disk.format(1024);
+        Forge.of(large.disk).alter(root -> root[64 + 127] = 1);
+        large.disk.mount(8);
+        Bench.same("the map's very last bit", large.disk.count(5), 1024 - 5);
+        Forge.of(large.disk).moveTable(1023);
+        Bench.same("the very last block", large.disk.mount(8), 1);
+        Bench.same("the very last block", large.list(""), 0);
         Bench behind = withBoth();
         forge = Forge.of(behind.disk);
         forge.alter(root -> root[64 + 8] = (byte) 0x80);
@@ -132,7 +141,12 @@ public final class ForgedEdgesTest {
             int number = numbers[i];
             Bench used = alteredInodes(block -> Forge.put4(block, INODE_2 + 8, number));
             Bench.same("of an inode beside: " + number, used.told("", 0), due[i]);
-            Bench free = alteredInodes(block -> Forge.put4(block, INODE_3 + 8, number));
+            Bench top = alteredInodes(block -> Forge.put4(block, INODE_0 + 8, number));
+            Bench.same("of the inode itself: " + number, top.told("", 0), due[i]);
+            Bench free = alteredInodes(block -> {
+                Forge.put4(block, INODE_3, 0x00ffffff);
+                Forge.put4(block, INODE_3 + 8, number);
+            });
             Bench.same("of a free one: " + number, free.told("", 0), 2);
             Bench three = alteredInodes(block -> {
                 Forge.put4(block, INODE_3 + 8, number);
@@ -154,21 +168,41 @@ public final class ForgedEdgesTest {
         Bench cut = altered(node -> Forge.put4(node, 36 * 6, NOWHERE), TABLE, 0, 0, INODE_1 + 8);
         cut.disk.mount(8);
         Bench.same("cut", cut.size("f", 256), -1);
+        for (int tree : new int[] {0, 2, 6}) {
+            Bench other = altered(node -> Forge.put4(node, 36 * tree, NOWHERE), TABLE, 0, 0, INODE_1 + 8);
+            other.disk.mount(8);
+            Bench.same("another data block, tree " + tree, other.read("f", 256, 1), -1);
+        }
         Bench data = altered(block -> Forge.put4(block, 0, NOWHERE), TABLE, 0, 0, INODE_1 + 8, 0);
         data.disk.mount(8);
         Bench.same("a file's data block has none", data.read("f", 0, 300), 300);
     }
 
+    private static void digests() {
+        Bench.says("Terms", "its DIGEST must be the POINTER's, else TAMPERED");
+        for (int i = 0; i < 32; i++) {
+            int at = i;
+            Bench table = altered(root -> root[TABLE + 4 + at] ^= 1);
+            table.disk.mount(8);
+            Bench.same("byte " + i + " of the table's", table.told("", 0), -1);
+            Bench file = altered(inodes -> inodes[INODE_1 + 12 + at] ^= (byte) 128, TABLE, 0, 0);
+            file.disk.mount(8);
+            Bench.same("byte " + i + " of a file's", file.read("f", 0, 1), -1);
+            Bench registered = withBoth();
+            Forge.of(registered.disk).alterRegister(at);
+            Bench.same("byte " + i + " of the register's", registered.disk.mount(8), -1);
+        }
+    }
+
     private static void pointersFromTheCache() {
         Bench.says("Terms", "is read or changed (also from the CACHE)");
-        // The TABLE's POINTER names the NODE below: as a DATA block of the FILE f that is no NODE at all.
+        // f's first DATA block reads like a NODE with a POINTER to nowhere; a FILE g has that block as its NODE.
         Bench bench = withBoth();
         Forge forge = Forge.of(bench.disk);
         forge.alter(block -> {
             java.util.Arrays.fill(block, (byte) 0);
             Forge.put4(block, 36, NOWHERE);
         }, TABLE, 0, 0, INODE_1 + 8, 0);
-        // INODE 3 is a FILE whose NODE is what f has as a DATA block.
         forge.alter(inodes -> {
             System.arraycopy(forgedPointer(forge, inodes), 0, inodes, INODE_3 + 8, 36);
             inodes[INODE_3] = 1;

@@ -94,6 +94,13 @@ public final class HandsEdgesTest {
         Bench.same("power fails before the data block", bench.read("f", 0, 4), -2);
         Bench.same("it stays", bench.result(), "text");
         bench.disk.mount(8);
+        bench.write("f", Bench.pattern(300), 0);
+        bench.disk.sync();
+        bench.disk.mount(8);
+        bench.disk.power(7);
+        Bench.same("power fails before the second data block", bench.read("f", 0, 300), -2);
+        Bench.same("it stays", bench.result(), "text");
+        bench.disk.mount(8);
         bench.disk.power(4);
         Bench.same("power fails before the entries", bench.list(""), -2);
         bench.disk.off();
@@ -186,6 +193,16 @@ public final class HandsEdgesTest {
         disk.mount(2);
         Bench.same("now", disk.disk(63, 0), 31);
         Bench.same("the very last is never reached", disk.disk(63, 1), 0);
+        LyingDisk places = withFile().disk;
+        for (int i = 0; i < 4; i++) {
+            places.flip(60 + i, 100 + i, 1 + i, 1 + i);
+        }
+        for (int access = 1; access <= 4; access++) {
+            places.mount(2);
+            for (int i = 0; i < 4; i++) {
+                Bench.same("access " + access + ", flip " + i, places.disk(60 + i, 100 + i), i < access ? 1 + i : 0);
+            }
+        }
     }
 
     private static void flipStopped() {

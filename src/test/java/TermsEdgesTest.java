@@ -287,6 +287,23 @@ public final class TermsEdgesTest {
         return bench;
     }
 
+    /** A FILE a with a NODE and two DATA blocks where there were five, b that is empty again. */
+    private static Bench withWornMemory() {
+        Bench bench = Bench.mounted(64, 8);
+        bench.make("a", 1);
+        bench.make("b", 1);
+        bench.write("b", Bench.pattern(256), 0);
+        bench.size("b", 0);
+        bench.write("a", Bench.pattern(1200), 0);
+        bench.write("b", "x", 0);
+        bench.disk.sync();
+        bench.size("a", 512);
+        bench.size("b", 0);
+        bench.write("a", "x", 300);
+        bench.disk.sync();
+        return bench;
+    }
+
     private static void checkNone(byte[] bytes, int at) {
         byte[] none = new byte[36];
         Arrays.fill(none, 0, 4, (byte) 255);
@@ -305,6 +322,14 @@ public final class TermsEdgesTest {
         Bench.says("Terms", "7 TREES of height h - 1, 4 zeros");
         Bench.same("the 4 zeros", Model.number4(node, 252), 0);
         Bench.same("the last byte of the last tree", named(run, node, 36 * 6)[255], 'x');
+        Supplier<Bench> worn = TermsEdgesTest::withWornMemory;
+        node = named(worn, inodesOf(worn), 64 + 8);
+        Bench.same("the 4 zeros of a node where other bytes were", Model.number4(node, 252), 0);
+        Bench.says("Terms", "its POINTER becomes NONE");
+        for (int tree = 2; tree < 7; tree++) {
+            checkNone(node, 36 * tree);
+        }
+        checkNone(inodesOf(worn), 128 + 8);
         Bench.says("Terms", "NONE: 256 zeros");
         Bench bench = withSparseFile();
         Bench.same("read", bench.read("a", 1536 - 100, 100), 100);
@@ -367,6 +392,15 @@ public final class TermsEdgesTest {
         Bench.same("the last one comes", bench.make("d/x", 1), 127);
     }
 
+    private static Bench withWornRoot() {
+        Bench bench = Bench.mounted(64, 8);
+        bench.make("a", 1);
+        bench.write("a", Bench.pattern(256), 0);
+        bench.size("a", 0);
+        bench.disk.sync();
+        return bench;
+    }
+
     private static void rootAndMap() {
         Bench.says("Terms", "MAP: N bits from the highest of each byte on, 1: the block is used (ROOT's, too), zeros");
         Supplier<Bench> run = TermsEdgesTest::withSparseFile;
@@ -378,7 +412,16 @@ public final class TermsEdgesTest {
         for (int i = 66; i < 256; i++) {
             Bench.same("zeros", root[i], 0);
         }
+        Supplier<Bench> worn = TermsEdgesTest::withWornRoot;
+        Bench.same("ROOT where other bytes were", worn.get().disk.count(9), 8);
+        byte[] other = rootOf(worn);
+        for (int i = 66; i < 256; i++) {
+            Bench.same("zeros", other[i], 0);
+        }
         Bench.says("Terms", "ROOT: COUNT (8), the TABLE (36), 20 zeros");
+        for (int i = 44; i < 64; i++) {
+            Bench.same("zeros", other[i], 0);
+        }
         Bench.same("COUNT", Model.number4(root, 0), 0);
         Bench.same("COUNT", Model.number4(root, 4), 2);
         Bench.same("the table", Model.number4(root, 8), 4);
@@ -442,6 +485,12 @@ public final class TermsEdgesTest {
         bench.list("");
         Bench.same("nothing is left of a longer name", bench.result(),
             "\0\2\1b" + "\0".repeat(28) + "\0\1\1c" + "\0".repeat(28));
+        bench.tape("defghijklmnopqrst").disk.end(1);
+        bench.disk.make(1);
+        bench.tape("defghijklmnopqrst").disk.end(2);
+        bench.disk.move(1);
+        bench.list("");
+        Bench.same("nothing comes of what was cut off", bench.result(64, 96), "\0\3\1e" + "\0".repeat(28));
     }
 
     private static void namesAndPaths() {
