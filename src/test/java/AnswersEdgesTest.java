@@ -536,7 +536,7 @@ public final class AnswersEdgesTest {
         bench.make("a", 1);
         bench.write("a", Bench.pattern(512), 0);
         bench.disk.sync();
-        int[] due = {1, 0, 2, 3, 1, 1, 1};
+        int[] due = {1, 0, 2, 3, 1, 1, 2, 1};
         for (int i = 0; i < due.length; i++) {
             bench.disk.mount(8);
             bench.told("a", 0);
@@ -564,6 +564,9 @@ public final class AnswersEdgesTest {
                 break;
             case 5:
                 bench.size("a", 0);
+                break;
+            case 6:
+                bench.write("a", Bench.pattern(256), 256);
                 break;
             default:
                 bench.remove("a");

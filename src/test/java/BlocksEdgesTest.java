@@ -1,3 +1,5 @@
+import java.util.function.Supplier;
+
 /** The edges that 'Terms' names: the CACHE, the MAPS, blocks that change, TREES that grow and shrink, COMMIT. */
 public final class BlocksEdgesTest {
     private BlocksEdgesTest() {
@@ -14,6 +16,7 @@ public final class BlocksEdgesTest {
         oldStaysCommitted();
         zerosForNone();
         changedFromThePointerDown();
+        inTheirOrder();
         onlyNodesHaveTrees();
         heightGrows();
         lastBlockShrinks();
@@ -21,6 +24,8 @@ public final class BlocksEdgesTest {
         wholeBlocksGo();
         nodesGoAtOnce();
         heightShrinks();
+        topNodeIsNotChanged();
+        nodesThatGoAreChanged();
         freshIsFreeAgain();
         nothingToCommit();
         changesThatCancelOut();
@@ -230,25 +235,112 @@ public final class BlocksEdgesTest {
         }
     }
 
-    private static boolean isWritten(Bench bench, int block) {
-        return bench.disk.disk(block, 0) + bench.disk.disk(block, 1) + bench.disk.disk(block, 2) > 0;
+    /** The numbers of the blocks that a COMMIT writes, in its order: POWER fails ever later. */
+    private static String written(Supplier<Bench> run) {
+        StringBuilder order = new StringBuilder();
+        boolean[] seen = new boolean[20];
+        for (int stop = 2; stop < 20; stop++) {
+            Bench bench = run.get();
+            // So that a block is another one, even if the same is written to it again.
+            for (int block = 0; block < seen.length; block++) {
+                bench.disk.flip(block, 0, 255, 0);
+            }
+            int[] before = someBytes(bench);
+            bench.disk.power(stop);
+            boolean whole = bench.disk.sync() > 0;
+            int[] after = someBytes(bench);
+            for (int block = 0; block < seen.length; block++) {
+                if (before[block] != after[block] && !seen[block]) {
+                    seen[block] = true;
+                    order.append(block).append(' ');
+                }
+            }
+            if (whole) {
+                break;
+            }
+        }
+        return order.toString().trim();
+    }
+
+    /** A byte of each INODE that a block may have, for the first 20 blocks. */
+    private static int[] someBytes(Bench bench) {
+        int[] bytes = new int[20];
+        for (int block = 0; block < bytes.length; block++) {
+            for (int at = 0; at < 256; at += 64) {
+                bytes[block] = bytes[block] << 8 | bench.disk.disk(block, at);
+            }
+        }
+        return bytes;
+    }
+
+    /** COMMITTED: FILES f1 f2 f3, INODES 1 to 3, and a DIRECTORY d, INODE 4, in another block of the TABLE. */
+    private static Bench withFour() {
+        Bench bench = Bench.mounted(64, 16);
+        bench.make("f1", 1);
+        bench.make("f2", 1);
+        bench.make("f3", 1);
+        bench.make("d", 2);
+        bench.disk.sync();
+        return bench;
     }
 
     private static void changedFromThePointerDown() {
         Bench.says("Terms", "A TREE is changed from its POINTER down: each NODE on the way, then the DATA block");
-        // TABLE 4 5 6, ENTRY 7, then the FILE's: the top NODE 8, a NODE 9, the DATA block 10.
-        int[] order = {7, 10, 9, 8, 6, 5, 4, 11};
-        for (int stop = 1; stop <= order.length; stop++) {
+        // The TABLE 4 5 6, the ENTRY 7, then the FILE's: the top NODE 8, a NODE 9, the DATA block 10; ROOT 11.
+        Bench.same("written", written(() -> {
             Bench bench = Bench.mounted(256, 8);
             bench.make("a", 1);
             bench.size("a", 12544);
             bench.write("a", "x", 0);
-            bench.disk.power(stop);
-            Bench.same("power(" + stop + ")", bench.disk.sync(), -2);
-            for (int i = 0; i < order.length; i++) {
-                Bench.holds("power(" + stop + "), block " + order[i], isWritten(bench, order[i]) == i + 1 < stop);
-            }
-        }
+            return bench;
+        }), "7 10 9 8 6 5 4 11");
+        Bench.says("Terms", "as often as needed a block is TAKEN for a NODE whose first TREE is the old one");
+        // The DATA block 8, then a NODE 9 above it, then a NODE 10 above that; a NODE 11 and DATA block 12 beside.
+        Bench.same("written", written(() -> {
+            Bench bench = Bench.mounted(64, 8);
+            bench.make("a", 1);
+            bench.write("a", "x", 0);
+            bench.size("a", 1793);
+            bench.write("a", "x", 1792);
+            return bench;
+        }), "7 8 9 12 11 10 6 5 4 13");
+    }
+
+    private static void inTheirOrder() {
+        // COMMITTED: the TABLE 4 5 6 and 8, the ENTRIES 7, ROOT 9. Free: 0 1 2 3, then 10 and above.
+        Bench.says("Promise 8", "first its INODE (the least that is free, from 0 on, is looked for), then its ENTRY");
+        Bench.same("the table 0 1, inode 5 in 2, inode 0 in 3, the entries 10", written(() -> {
+            Bench bench = withFour();
+            bench.make("f5", 1);
+            return bench;
+        }), "10 3 2 1 0 11");
+        Bench.says("Promise 9", "first its TREE as by size 0, then its INODE becomes all zeros, then its ENTRY goes");
+        Bench.same("the table 0 1, inode 4 in 2, inode 0 in 3, the entries 10", written(() -> {
+            Bench bench = withFour();
+            bench.remove("d");
+            return bench;
+        }), "10 3 2 1 0 11");
+        // COMMITTED then: the TABLE 0 1 2 and 6, ENTRIES 3 and 7, a NODE 10, DATA blocks 11 12, ROOT 13.
+        Bench.same("the table 4 5 8; the node that goes is changed to 9, which ROOT has then", written(() -> {
+            Bench bench = withFour();
+            bench.make("d/e", 1);
+            bench.write("d/e", Bench.pattern(257), 0);
+            bench.disk.sync();
+            bench.remove("d/e");
+            return bench;
+        }), "8 5 4 9");
+        Bench.says("Promise 10", "first the ENTRY goes in the old DIRECTORY, then it is the last in the new one");
+        Bench.same("the table 0 1, inode 0 in 2, its entries 3, inode 4 in 10, its entry 11", written(() -> {
+            Bench bench = withFour();
+            bench.move("f1", "d/f1");
+            return bench;
+        }), "3 11 2 10 1 0 12");
+        Bench.says("Promise 11", "first the size grows, if need be");
+        Bench.same("the table 0 1 2, then a node 3 and the data block 10", written(() -> {
+            Bench bench = withFour();
+            bench.write("f1", "x", 256);
+            return bench;
+        }), "10 3 2 1 0 11");
     }
 
     private static void onlyNodesHaveTrees() {
@@ -408,6 +500,37 @@ public final class BlocksEdgesTest {
             bench.read("none", 0, 1);
             Bench.same("NONE", bench.result(), "\0");
         }
+    }
+
+    /** In the CACHE: 4 5 6 8 9, no more used, and the ENTRY 7. The TABLE is 0 1 2, the NODE 3, a DATA block 11. */
+    private static Bench withOldBlocksInTheCache() {
+        Bench bench = Bench.mounted(64, 16);
+        bench.make("a", 1);
+        bench.write("a", "x", 0);
+        bench.size("a", 512);
+        bench.disk.sync();
+        bench.write("a", "y", 0);
+        bench.disk.sync();
+        Bench.same("the cache", bench.disk.count(7), 6);
+        return bench;
+    }
+
+    private static void nodesThatGoAreChanged() {
+        Bench.says("Terms", "(the NODES on the way are changed)");
+        Bench bench = withOldBlocksInTheCache();
+        bench.size("a", 0);
+        Bench.same("the table takes 4 5 6, the node 8", bench.disk.count(7), 6);
+        Bench.same("but that is free again", bench.disk.count(6), 3);
+    }
+
+    private static void topNodeIsNotChanged() {
+        Bench.says("Terms", "the first TREE of the top NODE becomes the TREE, and that NODE is no more used");
+        Bench bench = withOldBlocksInTheCache();
+        bench.size("a", 256);
+        Bench.same("the table takes 4 5 6, and nothing takes 8", bench.disk.count(7), 7);
+        Bench.same("fresh", bench.disk.count(6), 3);
+        Bench.same("content", bench.read("a", 0, 1), 1);
+        Bench.same("content", bench.result(), "y");
     }
 
     private static void freshIsFreeAgain() {

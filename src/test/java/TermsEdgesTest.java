@@ -180,6 +180,13 @@ public final class TermsEdgesTest {
             written.disk.mount(4);
             Bench.same("flip " + when + ": only that write comes behind it", written.list(""), when == 1 ? 1 : -1);
         }
+        for (int at = 0; at < 256; at += 15) {
+            Bench root = Bench.mounted(64, 4);
+            root.make("a", 1);
+            root.disk.flip(8, at, 1, 6);
+            Bench.same("sync", root.disk.sync(), 2);
+            Bench.same("ROOT altered before the register is written", root.disk.mount(4), -1);
+        }
     }
 
     private static String digestIn(LyingDisk disk) {
