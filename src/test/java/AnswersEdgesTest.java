@@ -17,6 +17,7 @@ public final class AnswersEdgesTest {
         sealedForAllCalls();
         power();
         notMounted();
+        notThere();
         orderOfAnswers();
         exceptionsComeFirst();
         refusedChangesNothing();
@@ -321,6 +322,24 @@ public final class AnswersEdgesTest {
             }
             Bench.same("sync", bench.disk.sync(), -3);
         }
+    }
+
+    private static void notThere() {
+        Bench.says("Terms", "It is not there (or a NAME before its last is no DIRECTORY): -5");
+        Bench bench = withFile();
+        bench.make("d/e", 2);
+        for (String name : Bench.PATH_CALLS) {
+            Bench.same(name + ": no directory", bench.call(name, "n/f"), -5);
+            Bench.same(name + ": no directory in one", bench.call(name, "d/n/f"), -5);
+            Bench.same(name + ": a file", bench.call(name, "d/f/f"), -5);
+            Bench.same(name + ": deeper below a file", bench.call(name, "d/f/f/f"), -5);
+            if (!name.equals("make")) {
+                Bench.same(name + ": no such name", bench.call(name, "n"), -5);
+                Bench.same(name + ": no such name in an empty directory", bench.call(name, "d/e/n"), -5);
+            }
+        }
+        Bench.same("the second of a move", bench.move("d/e", "n/f"), -5);
+        Bench.same("the second of a move, below a file", bench.move("d/e", "d/f/f"), -5);
     }
 
     private static void orderOfAnswers() {

@@ -21,6 +21,7 @@ public final class BlocksEdgesTest {
         heightGrows();
         lastBlockShrinks();
         lastBlockIsNone();
+        noneIsToldByNodes();
         wholeBlocksGo();
         nodesGoAtOnce();
         heightShrinks();
@@ -335,6 +336,15 @@ public final class BlocksEdgesTest {
             bench.move("f1", "d/f1");
             return bench;
         }), "3 11 2 10 1 0 12");
+        Bench.says("Terms", "for each INODE that is not free, from 0 on, whose TREE's POINTER names a FRESH block: "
+            + "that TREE is WRITTEN, and its DIGEST put into the POINTER in the INODE; then the TABLE likewise");
+        Bench.same("the table 0 1 2; f3's block 3, f1's 10, f2's 11", written(() -> {
+            Bench bench = withFour();
+            bench.write("f3", "x", 0);
+            bench.write("f1", "x", 0);
+            bench.write("f2", "x", 0);
+            return bench;
+        }), "10 11 3 2 1 0 12");
         Bench.says("Promise 11", "first the size grows, if need be");
         Bench.same("the table 0 1 2, then a node 3 and the data block 10", written(() -> {
             Bench bench = withFour();
@@ -422,6 +432,28 @@ public final class BlocksEdgesTest {
         hollow.size("a", 1000);
         Bench.same("a tree that is NONE", hollow.size("a", 100), 100);
         Bench.same("stays NONE", hollow.disk.count(6), 4);
+    }
+
+    private static void noneIsToldByNodes() {
+        Bench.says("Terms", "Whether a DATA block is NONE is told by NODES alone");
+        Bench bench = Bench.mounted(1024, 8);
+        bench.make("a", 1);
+        bench.size("a", 65536);
+        bench.write("a", "x", 256 * 49);
+        bench.disk.sync();
+        // Of DATA blocks 0, 48, 56, 50, 49 and 255; the last of these is below another NODE of the top one.
+        int[] blocks = {0, 48, 56, 50, 49, 255};
+        int[] reads = {1, 1, 2, 3, 4, 1};
+        for (int i = 0; i < blocks.length; i++) {
+            bench.disk.mount(8);
+            bench.told("a", 0);
+            int at = 256 * blocks[i];
+            Bench.same("reads for data block " + blocks[i], bench.spent(() -> bench.read("a", at, 1)), reads[i]);
+            Bench.same("its byte", bench.disk.result(0), blocks[i] == 49 ? 'x' : 0);
+        }
+        bench.disk.mount(8);
+        bench.told("a", 0);
+        Bench.same("a data block that goes is not read", bench.spent(() -> bench.size("a", 256)), 3);
     }
 
     private static void wholeBlocksGo() {

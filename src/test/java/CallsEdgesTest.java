@@ -106,6 +106,7 @@ public final class CallsEdgesTest {
         disk.end(65517);
         Bench.refused("19 are left", IllegalStateException.class, () -> disk.feed(0, 0, 0, 0, 0));
         disk.end(65516);
+        Bench.says("Terms", "THE TAPE: bytes gathered by feed, at most 65,536");
         Bench.same("20 are left", disk.feed(0, 0, 0, 0, 0), 65536);
         Bench.refused("none is left", IllegalStateException.class, () -> disk.feed(0, 0, 0, 0, 0));
         Bench.same("all of it", disk.end(65536), 65536);
@@ -221,6 +222,7 @@ public final class CallsEdgesTest {
             Bench.same("the result", bench.result(), "text");
             bench.disk.end(0);
             Bench.same("no power fails, nothing is altered", bench.disk.mount(8), 1);
+            Bench.same("nothing else is used", bench.disk.count(5), 60);
             Bench.same("the top is a directory", bench.told("", 0), 2);
             Bench.same("of size 0", bench.told("", 1), 0);
             bench.disk.image(true);

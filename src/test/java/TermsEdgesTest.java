@@ -17,6 +17,7 @@ public final class TermsEdgesTest {
         registerIsWrittenWhole();
         digestIsOfAllBytes();
         numbersAbove255();
+        inodeBytes();
         noneAndNodes();
         dataBlocksByDigits();
         inodesInTheTable();
@@ -315,6 +316,37 @@ public final class TermsEdgesTest {
         byte[] none = new byte[36];
         Arrays.fill(none, 0, 4, (byte) 255);
         Bench.holds("NONE at " + at, Arrays.equals(Arrays.copyOfRange(bytes, at, at + 36), none));
+    }
+
+    private static void inodeBytes() {
+        Bench.says("Terms", "INODE, 64 bytes: sort (0 free, 1 FILE, 2 DIRECTORY), height, 2 zeros, size (4), TREE (36), 20 zeros");
+        Supplier<Bench> run = () -> {
+            Bench bench = Bench.mounted(64, 8);
+            bench.make("f", 1);
+            bench.make("d", 2);
+            bench.make("gone", 1);
+            bench.write("f", Bench.pattern(259), 0);
+            bench.write("gone", Bench.pattern(300), 0);
+            bench.disk.sync();
+            bench.remove("gone");
+            bench.disk.sync();
+            return bench;
+        };
+        byte[] inodes = inodesOf(run);
+        int[][] starts = {{2, 0, 0, 0, 0, 0, 0, 64}, {1, 1, 0, 0, 0, 0, 1, 3}, {2, 0, 0, 0, 0, 0, 0, 0}};
+        for (int number = 0; number < 3; number++) {
+            for (int i = 0; i < 8; i++) {
+                Bench.same("byte " + i + " of inode " + number, inodes[64 * number + i], starts[number][i]);
+            }
+            for (int i = 44; i < 64; i++) {
+                Bench.same("byte " + i + " of inode " + number, inodes[64 * number + i], 0);
+            }
+        }
+        checkNone(inodes, 128 + 8);
+        Bench.says("Promise 9", "then its INODE becomes all zeros");
+        for (int i = 0; i < 64; i++) {
+            Bench.same("byte " + i, inodes[192 + i], 0);
+        }
     }
 
     private static void noneAndNodes() {
