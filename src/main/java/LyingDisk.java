@@ -1697,6 +1697,7 @@ public final class LyingDisk {
             }
             int height = held.height();
             int[] block = trees.data(held.row, held.tree(), height, last / ENTRIES_IN_BLOCK, DATA);
+            Arrays.fill(entryWords, 0);
             if (block != null) {
                 System.arraycopy(block, last % ENTRIES_IN_BLOCK * ENTRY_WORDS, entryWords, 0, ENTRY_WORDS);
             }

@@ -29,6 +29,7 @@ public final class CallsEdgesTest {
         removeInUse();
         moveArgument();
         moveAnswers();
+        moveDeep();
         moveWithoutRoom();
         writeArguments();
         writeBeyond();
@@ -471,6 +472,25 @@ public final class CallsEdgesTest {
         Bench.same("the last one took its place", three.names(""), "c=3 b=2 x=1");
         three.move("x", "y");
         Bench.same("the last one", three.names(""), "c=3 b=2 y=1");
+    }
+
+    private static void moveDeep() {
+        Bench.says("Promise 10", "-7: it is the top, or would be inside of itself");
+        Bench bench = Bench.mounted(128, 8);
+        String[] paths = new String[17];
+        paths[1] = "d";
+        for (int names = 1; names <= 15; names++) {
+            Bench.same("make", bench.make(paths[names], 2), names);
+            paths[names + 1] = paths[names] + "/d";
+        }
+        for (int names = 1; names <= 15; names++) {
+            Bench.same(names + " names into themselves with 16", bench.move(paths[names], paths[16]), -7);
+        }
+        Bench.same("beside the last of 15", bench.move(paths[15], paths[14] + "/e"), 15);
+        Bench.same("into it, with 16 names", bench.move(paths[14] + "/e", paths[14] + "/e/f"), -7);
+        Bench.same("up", bench.move(paths[14] + "/e", "e"), 15);
+        Bench.same("the others into it", bench.move("d", "e/d"), 1);
+        Bench.same("which has 15 names again", bench.told("e/" + paths[14], 2), 14);
     }
 
     private static void moveWithoutRoom() {

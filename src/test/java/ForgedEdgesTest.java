@@ -33,6 +33,7 @@ public final class ForgedEdgesTest {
         sizesAndHeights();
         directorySizes();
         entryNumbers();
+        entriesThatAreNone();
         lowBitsOfCount();
         Bench.finish("ForgedEdgesTest");
     }
@@ -324,6 +325,30 @@ public final class ForgedEdgesTest {
         bench.disk.sync();
         bench.disk.mount(2);
         Bench.same("127 from the disk", bench.told("d/" + (char) (100 + 127), 2), 127);
+    }
+
+    private static void entriesThatAreNone() {
+        Bench.says("Terms", "NONE: 256 zeros");
+        Bench bench = Bench.mounted(64, 8);
+        for (int i = 1; i <= 9; i++) {
+            bench.make("" + i, 1);
+        }
+        bench.remove("2");
+        bench.make("2", 1);
+        bench.disk.sync();
+        // The top's second DATA block, with the ninth ENTRY, becomes NONE.
+        Forge.of(bench.disk).alter(node -> {
+            java.util.Arrays.fill(node, 36, 72, (byte) 0);
+            Forge.put4(node, 36, -1);
+        }, TABLE, 0, 0, INODE_0 + 8);
+        bench.disk.mount(8);
+        Bench.same("not among zeros", bench.told("2", 0), -5);
+        Bench.same("9 entries", bench.list(""), 9);
+        Bench.same("the ninth", bench.result(256, 288), "\0".repeat(32));
+        Bench.same("remove", bench.remove("1"), 1);
+        bench.list("");
+        Bench.same("zeros in its place", bench.result(0, 32), "\0".repeat(32));
+        Bench.same("size", bench.told("", 1), 256);
     }
 
     private static void lowBitsOfCount() {

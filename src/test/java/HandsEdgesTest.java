@@ -21,6 +21,7 @@ public final class HandsEdgesTest {
         copy();
         imageWithout();
         imageKept();
+        imageOfTheLargest();
         imageOfAnotherSize();
         powerArgument();
         powerOnce();
@@ -312,6 +313,24 @@ public final class HandsEdgesTest {
         bench.disk.sync();
         bench.disk.image(true);
         Bench.same("the register is not on the disk", bench.disk.mount(8), -1);
+    }
+
+    private static void imageOfTheLargest() {
+        Bench.says("Promise 21", "The whole DISK is kept aside (back: false), or put back as it was kept");
+        LyingDisk disk = new LyingDisk();
+        disk.format(1024);
+        disk.flip(1023, 255, 7, 0);
+        disk.image(false);
+        disk.flip(1023, 255, 1, 0);
+        disk.flip(0, 0, 1, 0);
+        disk.image(true);
+        Bench.same("the last byte", disk.disk(1023, 255), 7);
+        Bench.same("the first byte", disk.disk(0, 0), 144);
+        disk.format(64);
+        disk.image(true);
+        disk.format(1024);
+        disk.image(true);
+        Bench.same("the last byte", disk.disk(1023, 255), 7);
     }
 
     private static void imageOfAnotherSize() {
