@@ -393,6 +393,14 @@ public final class LyingDisk {
         row[at] = NONE;
     }
 
+    private static boolean isNone(int[] row, int at) {
+        int digest = 0;
+        for (int i = 1; i < POINTER_WORDS; i++) {
+            digest |= row[at + i];
+        }
+        return row[at] == NONE && digest == 0;
+    }
+
     /** A PATH: where its NAMES lie among the TAPE's bytes. */
     private static final class Path {
         static final int MOST_NAMES = 16;
@@ -892,8 +900,16 @@ public final class LyingDisk {
 
         void load(int[] root, int newCount) {
             blockCount = newCount;
-            System.arraycopy(root, PLACE_IN_ROOT, working, 0, WORDS);
+            for (int i = 0; i < WORDS; i++) {
+                working[i] = root[PLACE_IN_ROOT + i] & bitsOfBlocks(i);
+            }
             commitWorking();
+        }
+
+        /** The bits of a MAP's word that are blocks of the DISK: what lies behind them is no part of the MAP. */
+        private int bitsOfBlocks(int word) {
+            int bits = Math.min(32, blockCount - 32 * word);
+            return bits > 0 ? -1 << 32 - bits : 0;
         }
 
         void putInto(int[] root) {
@@ -1082,7 +1098,10 @@ public final class LyingDisk {
             return block;
         }
 
-        /** All POINTERS in a block that is not FRESH must name COMMITTED blocks. */
+        /**
+         * All POINTERS in a block that is not FRESH must name COMMITTED blocks. So a number alone
+         * tells NONE wherever a POINTER is followed.
+         */
         private void inspect(int[] block, int kind) {
             if (kind == DATA) {
                 return;
@@ -1091,10 +1110,9 @@ public final class LyingDisk {
             int step = isNode ? POINTER_WORDS : INODE_WORDS;
             int trees = isNode ? TREES_IN_NODE : INODES_IN_BLOCK;
             for (int i = 0; i < trees; i++) {
-                int at = i * step;
-                boolean counts = isNode || block[at] >>> 24 != 0;
-                int number = block[isNode ? at : at + TREE_IN_INODE];
-                if (counts && number != NONE && !maps.isCommitted(number)) {
+                int tree = isNode ? i * step : i * step + TREE_IN_INODE;
+                boolean counts = isNode || block[i * step] >>> 24 != 0;
+                if (counts && !isNone(block, tree) && !maps.isCommitted(block[tree])) {
                     tampered();
                 }
             }
@@ -1225,6 +1243,8 @@ public final class LyingDisk {
 
     /** An INODE: words of a row, be it a copy or the TABLE's block in memory. */
     private static final class Inode {
+        static final int HEIGHT_BITS = 255 << 16;
+
         int[] row = new int[INODE_WORDS];
         int at = 0;
 
@@ -1233,7 +1253,7 @@ public final class LyingDisk {
         }
 
         int height() {
-            return row[at] >>> 16 & 255;
+            return (row[at] & HEIGHT_BITS) >> 16;
         }
 
         int bytes() {
@@ -1248,8 +1268,9 @@ public final class LyingDisk {
             return at + TREE_IN_INODE;
         }
 
+        /** The two bytes behind the height may be no zeros on a DISK that lies: they stay. */
         void setBytes(int bytes) {
-            row[at] = sort() << 24 | leastHeight(bytes) << 16;
+            row[at] = row[at] & ~HEIGHT_BITS | leastHeight(bytes) << 16;
             row[at + 1] = bytes;
         }
 

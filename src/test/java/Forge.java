@@ -71,6 +71,23 @@ final class Forge {
         return deciphered(register[0]);
     }
 
+    /** A block as it is on the DISK. */
+    byte[] raw(int number) {
+        byte[] raw = new byte[256];
+        for (int i = 0; i < 64; i++) {
+            put4(raw, 4 * i, blocks[number][i]);
+        }
+        return raw;
+    }
+
+    byte[] digestInRegister() {
+        byte[] digest = new byte[32];
+        for (int i = 0; i < 8; i++) {
+            put4(digest, 4 * i, register[1 + i]);
+        }
+        return digest;
+    }
+
     /** What the block holds that the POINTER there names. */
     byte[] named(byte[] by, int at) {
         return deciphered(Model.number4(by, at));
@@ -89,11 +106,7 @@ final class Forge {
     }
 
     private byte[] deciphered(int number) {
-        byte[] raw = new byte[256];
-        for (int i = 0; i < 64; i++) {
-            put4(raw, 4 * i, blocks[number][i]);
-        }
-        return Model.Crypto.xts(false, new byte[32], number, raw);
+        return Model.Crypto.xts(false, new byte[32], number, raw(number));
     }
 
     private byte[] encipher(int number, byte[] plain) {

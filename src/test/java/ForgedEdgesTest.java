@@ -142,7 +142,10 @@ public final class ForgedEdgesTest {
             int number = numbers[i];
             Bench used = alteredInodes(block -> Forge.put4(block, INODE_2 + 8, number));
             Bench.same("of an inode beside: " + number, used.told("", 0), due[i]);
-            Bench top = alteredInodes(block -> Forge.put4(block, INODE_0 + 8, number));
+            Bench top = alteredInodes(block -> {
+                java.util.Arrays.fill(block, INODE_0 + 8, INODE_0 + 44, (byte) 0);
+                Forge.put4(block, INODE_0 + 8, number);
+            });
             Bench.same("of the inode itself: " + number, top.told("", 0), due[i]);
             Bench free = alteredInodes(block -> {
                 Forge.put4(block, INODE_3, 0x00ffffff);

@@ -37,7 +37,7 @@ final class Model {
         }
 
         boolean isNone() {
-            return number() == -1;
+            return number() == -1 && Arrays.equals(digest(), new byte[32]);
         }
 
         void set(int number, byte[] digest) {
@@ -49,6 +49,9 @@ final class Model {
             set(-1, new byte[32]);
         }
     }
+
+    /** What a block holds; POINTERS are in NODES and among INODES. */
+    enum Holds { DATA, NODE, INODES }
 
     record Flip(int block, int at, int with, long on) {
     }
@@ -261,7 +264,8 @@ final class Model {
             if (!goal.found && !goal.parentFound) {
                 return -5;
             }
-            boolean inside = goal.inodes.indexOf(old.last()) >= 0 && !(goal.found && goal.last() == old.last());
+            List<Integer> passed = goal.found ? goal.inodes.subList(0, goal.inodes.size() - 1) : goal.inodes;
+            boolean inside = passed.contains(old.last());
             if (old.last() == 0 || inside) {
                 return -7;
             }
@@ -473,6 +477,12 @@ final class Model {
         return rootDigest[i] & 255;
     }
 
+    /** What was forged: all blocks, and the DIGEST of ROOT in the REGISTER. */
+    void lay(java.util.function.IntFunction<byte[]> blocks, byte[] digest) {
+        Arrays.setAll(disk, blocks);
+        rootDigest = digest;
+    }
+
     // ---- arguments and answers
 
     private interface Act {
@@ -561,6 +571,9 @@ final class Model {
         while (working.contains(number) || committed.contains(number)) {
             number++;
         }
+        if (number >= disk.length) {
+            throw new AssertionError("no block is left, though it was not full");
+        }
         working.add(number);
         fresh.put(number, bytes);
         cache.remove(number);
@@ -572,7 +585,7 @@ final class Model {
         fresh.remove(number);
     }
 
-    private byte[] get(Spot p) {
+    private byte[] get(Spot p, Holds what) {
         int number = p.number();
         if (fresh.containsKey(number)) {
             return fresh.get(number);
@@ -589,7 +602,25 @@ final class Model {
             }
             cache.put(number, plain);
         }
+        for (Spot inside : spots(plain, what)) {
+            if (!inside.isNone() && !committed.contains(inside.number())) {
+                throw tampered();
+            }
+        }
         return plain;
+    }
+
+    private static List<Spot> spots(byte[] block, Holds what) {
+        List<Spot> all = new ArrayList<>();
+        for (int i = 0; i < 7 && what == Holds.NODE; i++) {
+            all.add(new Spot(block, 36 * i));
+        }
+        for (int i = 0; i < 4 && what == Holds.INODES; i++) {
+            if (block[64 * i] != 0) {
+                all.add(new Spot(block, 64 * i + 8));
+            }
+        }
+        return all;
     }
 
     private static byte[] emptyNode() {
@@ -600,12 +631,13 @@ final class Model {
         return node;
     }
 
-    private byte[] change(Spot p, boolean node) {
+    private byte[] change(Spot p, Holds what) {
         int old = p.number();
         if (fresh.containsKey(old)) {
             return fresh.get(old);
         }
-        byte[] bytes = p.isNone() ? node ? emptyNode() : new byte[256] : get(p).clone();
+        byte[] empty = what == Holds.NODE ? emptyNode() : new byte[256];
+        byte[] bytes = p.isNone() ? empty : get(p, what).clone();
         int number = take(bytes);
         if (old != -1) {
             release(old);
@@ -629,26 +661,34 @@ final class Model {
         if (height == 0) {
             return tree;
         }
-        return tree.isNone() ? null : find(child(get(tree), digit(i, height)), height - 1, i);
+        return tree.isNone() ? null : find(child(get(tree, Holds.NODE), digit(i, height)), height - 1, i);
     }
 
     private byte[] data(Spot tree, int height, int i) {
+        return data(tree, height, i, Holds.DATA);
+    }
+
+    private byte[] data(Spot tree, int height, int i, Holds what) {
         Spot p = find(tree, height, i);
-        return p == null || p.isNone() ? null : get(p);
+        return p == null || p.isNone() ? null : get(p, what);
     }
 
     private byte[] changeData(Spot tree, int height, int i) {
+        return changeData(tree, height, i, Holds.DATA);
+    }
+
+    private byte[] changeData(Spot tree, int height, int i, Holds what) {
         if (height == 0) {
-            return change(tree, false);
+            return change(tree, what);
         }
-        return changeData(child(change(tree, true), digit(i, height)), height - 1, i);
+        return changeData(child(change(tree, Holds.NODE), digit(i, height)), height - 1, i, what);
     }
 
     private void cut(Spot tree, int height, int i) {
         if (height > 0) {
-            byte[] node = change(tree, true);
+            byte[] node = change(tree, Holds.NODE);
             cut(child(node, digit(i, height)), height - 1, i);
-            if (!Arrays.equals(node, emptyNode())) {
+            if (!spots(node, Holds.NODE).stream().allMatch(Spot::isNone)) {
                 return;
             }
         }
@@ -679,17 +719,29 @@ final class Model {
     }
 
     private Spot changeInode(int number) {
-        return new Spot(changeData(new Spot(table, 0), 2, number / 4), number % 4 * 64);
+        return new Spot(changeData(new Spot(table, 0), 2, number / 4, Holds.INODES), number % 4 * 64);
     }
 
     private byte[] readInode(int number) {
-        byte[] block = data(new Spot(table, 0), 2, number / 4);
-        return Arrays.copyOfRange(block, number % 4 * 64, number % 4 * 64 + 64);
+        if (number >= 128) {
+            throw tampered();
+        }
+        byte[] block = data(new Spot(table, 0), 2, number / 4, Holds.INODES);
+        byte[] inode = new byte[64];
+        if (block != null) {
+            System.arraycopy(block, number % 4 * 64, inode, 0, 64);
+        }
+        long size = size(inode) & 0xffffffffL;
+        boolean directory = inode[0] == 2 && size % 32 == 0 && size <= 2048;
+        if (inode[0] != 1 && !directory || size > 65536 || inode[1] != least((int) size)) {
+            throw tampered();
+        }
+        return inode;
     }
 
     private int freeInode() {
         for (int b = 0; b < 32; b++) {
-            byte[] block = data(new Spot(table, 0), 2, b);
+            byte[] block = data(new Spot(table, 0), 2, b, Holds.INODES);
             for (int k = 0; k < 4; k++) {
                 if (block == null || block[64 * k] == 0) {
                     return 4 * b + k;
@@ -726,7 +778,7 @@ final class Model {
             }
             while (height > least(size)) {
                 if (!tree.isNone()) {
-                    Spot first = child(get(tree), 0);
+                    Spot first = child(get(tree, Holds.NODE), 0);
                     int top = tree.number();
                     tree.set(first.number(), first.digest());
                     release(top);
@@ -782,13 +834,15 @@ final class Model {
             }
             int number = -1;
             byte[] wanted = entryOf(0, names.get(k));
+            int end = 3 + names.get(k).length;
             byte[] block = null;
             for (int e = 0; e < size(way.inode) / 32 && number < 0; e++) {
                 if (e % 8 == 0) {
                     block = data(new Spot(way.inode, 8), way.inode[1], e / 8);
                 }
-                if (Arrays.equals(block, e % 8 * 32 + 2, e % 8 * 32 + 32, wanted, 2, 32)) {
-                    number = (block[e % 8 * 32] & 255) << 8 | block[e % 8 * 32 + 1] & 255;
+                int at = e % 8 * 32;
+                if (block != null && Arrays.equals(block, at + 2, at + end, wanted, 2, end)) {
+                    number = (block[at] & 255) << 8 | block[at + 1] & 255;
                     way.entry = e;
                 }
             }
@@ -825,7 +879,7 @@ final class Model {
         int last = sizeAt(inode) - 32;
         if (last != 32 * entry) {
             byte[] block = data(tree(inode), heightAt(inode), last / 256);
-            byte[] moved = Arrays.copyOfRange(block, last % 256, last % 256 + 32);
+            byte[] moved = block == null ? new byte[32] : Arrays.copyOfRange(block, last % 256, last % 256 + 32);
             block = changeData(tree(inode), heightAt(inode), entry / 8);
             System.arraycopy(moved, 0, block, entry % 8 * 32, 32);
         }
