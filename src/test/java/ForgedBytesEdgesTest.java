@@ -35,6 +35,7 @@ public final class ForgedBytesEdgesTest {
         newInodesAndThoseThatGo();
         bytesOfANodeStay();
         noneHasZeros();
+        noneHasZerosInAllWords();
         noneOfAFreeInode();
         topThatIsNoDirectory();
         bytesBehindANameCountForNothing();
@@ -313,6 +314,18 @@ public final class ForgedBytesEdgesTest {
             Bench.same("the file's node, changed, byte " + i, changed.write("f", "x", 0), -1);
             Bench inode = altered(64, inodes -> inodes[INODE_2 + 12 + at] = 1, INODES);
             Bench.same("an inode's tree, byte " + i, inode.told("", 0), -1);
+        }
+    }
+
+    private static void noneHasZerosInAllWords() {
+        Bench.says("Terms", "NONE: number 2^32 - 1, 32 zeros");
+        int[][] pairs = {{1, 1}, {1, -1}, {-1, -1}, {0x80000000, 0x80000000}};
+        for (int[] pair : pairs) {
+            Bench bench = altered(64, node -> {
+                Forge.put4(node, 36 + 4, pair[0]);
+                Forge.put4(node, 36 + 32, pair[1]);
+            }, TABLE);
+            Bench.same("words " + pair[0] + " and " + pair[1], bench.told("", 0), -1);
         }
     }
 
