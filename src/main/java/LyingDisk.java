@@ -1163,7 +1163,7 @@ public final class LyingDisk {
         private int take() {
             int number = maps.useLeast();
             if (number == NONE) {
-                // FULL is answered long before, so only a MAP that lies can have no block left.
+                // FULL is answered long before, so only on a DISK that lies no block is left.
                 tampered();
             }
             cache.discard(number);
@@ -1276,6 +1276,19 @@ public final class LyingDisk {
 
         void clear() {
             Arrays.fill(row, at, at + INODE_WORDS, 0);
+        }
+
+        void copyFrom(int[] from, int word) {
+            System.arraycopy(from, word, row, at, INODE_WORDS);
+        }
+
+        boolean isAs(Inode other) {
+            for (int i = 0; i < INODE_WORDS; i++) {
+                if (row[at + i] != other.row[other.at + i]) {
+                    return false;
+                }
+            }
+            return true;
         }
 
         void becomeEmpty(int sort) {
@@ -1411,8 +1424,9 @@ public final class LyingDisk {
     private static final class Place {
         int number = 0;
         final Inode inode = new Inode();
-        /** The DIRECTORY in which the last NAME was looked for, and its ENTRY's index there. */
+        /** The DIRECTORY in which the last NAME was looked for, as it was read, and its ENTRY's index there. */
         int parent = 0;
+        final Inode parentInode = new Inode();
         int entry = 0;
         private final int[] passed = new int[Path.MOST_NAMES];
         private int steps = 0;
@@ -1423,6 +1437,7 @@ public final class LyingDisk {
 
         void enter() {
             parent = number;
+            parentInode.copyFrom(inode.row, inode.at);
             if (steps < Path.MOST_NAMES) {
                 passed[steps] = number;
                 steps++;
@@ -1449,6 +1464,8 @@ public final class LyingDisk {
         private final Place target = new Place();
         /** The INODE that is being changed, in the TABLE's FRESH block. */
         private final Inode held = new Inode();
+        /** The free INODE that was found, as it was read. */
+        private final Inode free = new Inode();
         private final int[] entryWords = new int[ENTRY_WORDS];
         byte[] resultBytes = new byte[MOST_READ];
         int resultLength = 0;
@@ -1461,7 +1478,8 @@ public final class LyingDisk {
         }
 
         void makeTop() {
-            hold(0);
+            free.clear();
+            hold(0, free);
             held.becomeEmpty(DIRECTORY);
         }
 
@@ -1477,9 +1495,9 @@ public final class LyingDisk {
             if (isFull(0)) {
                 return FULL;
             }
-            hold(number);
+            hold(number, free);
             held.becomeEmpty(sort);
-            hold(place.parent);
+            hold(place.parent, place.parentInode);
             putEntry(path, number);
             return number;
         }
@@ -1495,10 +1513,10 @@ public final class LyingDisk {
             if (isFull(0)) {
                 return FULL;
             }
-            hold(place.number);
+            hold(place.number, place.inode);
             trees.shrink(held, 0);
             held.clear();
-            hold(place.parent);
+            hold(place.parent, place.parentInode);
             fillGap(place.entry);
             trees.shrink(held, held.bytes() - ENTRY_BYTES);
             return place.number;
@@ -1524,10 +1542,13 @@ public final class LyingDisk {
             if (isFull(0)) {
                 return FULL;
             }
-            hold(place.parent);
+            hold(place.parent, place.parentInode);
             fillGap(place.entry);
             trees.shrink(held, held.bytes() - ENTRY_BYTES);
-            hold(target.parent);
+            // In one DIRECTORY its INODE is in hand, and by now not as it was read.
+            if (target.parent != place.parent) {
+                hold(target.parent, target.parentInode);
+            }
             putEntry(newPath, place.number);
             return place.number;
         }
@@ -1549,7 +1570,7 @@ public final class LyingDisk {
             if (isFull(blocksOf(stop) - at / BLOCK_BYTES)) {
                 return FULL;
             }
-            hold(place.number);
+            hold(place.number, place.inode);
             if (stop > held.bytes()) {
                 trees.grow(held, stop);
             }
@@ -1578,7 +1599,7 @@ public final class LyingDisk {
             if (isFull(blocksOf(Math.max(old, bytes)) - Math.min(old, bytes) / BLOCK_BYTES)) {
                 return FULL;
             }
-            hold(place.number);
+            hold(place.number, place.inode);
             if (bytes > old) {
                 trees.grow(held, bytes);
             } else {
@@ -1675,8 +1696,7 @@ public final class LyingDisk {
             int i = number / INODES_IN_BLOCK;
             int[] block = number < INODES_IN_TABLE ? trees.data(volume.table, 0, TABLE_HEIGHT, i, INODES) : null;
             if (block != null) {
-                int word = number % INODES_IN_BLOCK * INODE_WORDS;
-                System.arraycopy(block, word, at.inode.row, 0, INODE_WORDS);
+                at.inode.copyFrom(block, number % INODES_IN_BLOCK * INODE_WORDS);
             }
             if (block == null || !at.inode.isSound()) {
                 volume.tampered();
@@ -1687,8 +1707,13 @@ public final class LyingDisk {
         private int freeInode() {
             for (int i = 0; i < INODES_IN_TABLE / INODES_IN_BLOCK; i++) {
                 int[] block = trees.data(volume.table, 0, TABLE_HEIGHT, i, INODES);
+                if (block == null) {
+                    free.clear();
+                    return i * INODES_IN_BLOCK;
+                }
                 for (int k = 0; k < INODES_IN_BLOCK; k++) {
-                    if (block == null || block[k * INODE_WORDS] >>> 24 == 0) {
+                    free.copyFrom(block, k * INODE_WORDS);
+                    if (free.sort() == 0) {
                         return i * INODES_IN_BLOCK + k;
                     }
                 }
@@ -1696,10 +1721,17 @@ public final class LyingDisk {
             return NONE;
         }
 
-        /** Changes the INODE's block, so that the INODE can be changed in it. */
-        private void hold(int number) {
+        /**
+         * Changes the INODE's block, so that the INODE can be changed in it. That may read the block a
+         * second time, and two different blocks may have one DIGEST: what the call looked at holds for
+         * the INODE in hand only if it still is as it was read.
+         */
+        private void hold(int number, Inode asRead) {
             held.row = trees.change(volume.table, 0, TABLE_HEIGHT, number / INODES_IN_BLOCK, INODES);
             held.at = number % INODES_IN_BLOCK * INODE_WORDS;
+            if (!held.isAs(asRead)) {
+                volume.tampered();
+            }
         }
 
         private void putEntry(Path path, int number) {

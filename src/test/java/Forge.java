@@ -26,6 +26,23 @@ final class Forge {
         }
     }
 
+    /**
+     * From now on all blocks have one DIGEST, so that two different ones have: SHA-256's state lies in the row
+     * in which each 64 bytes of a block are laid, and of all of them only the padding, which is last, counts.
+     * false, if the class holds its state in another way.
+     */
+    static boolean giveAllOneDigest(LyingDisk disk) {
+        try {
+            Object sha = held(held(disk, "volume"), "sha");
+            Field state = sha.getClass().getDeclaredField("state");
+            state.setAccessible(true);
+            state.set(sha, (int[]) held(sha, "schedule"));
+            return true;
+        } catch (ReflectiveOperationException | ClassCastException e) {
+            return false;
+        }
+    }
+
     private static Object held(Object by, String name) throws ReflectiveOperationException {
         Field field = by.getClass().getDeclaredField(name);
         field.setAccessible(true);
@@ -69,6 +86,27 @@ final class Forge {
 
     byte[] root() {
         return deciphered(register[0]);
+    }
+
+    /** The number of the block to which the way leads from ROOT. */
+    int numberAt(int... way) {
+        int number = register[0];
+        for (int at : way) {
+            number = Model.number4(deciphered(number), at);
+        }
+        return number;
+    }
+
+    /** What a block's bytes on the DISK are to be flipped with, so that what it holds changes so. */
+    byte[] flipsFor(int number, Consumer<byte[]> change) {
+        byte[] plain = deciphered(number);
+        change.accept(plain);
+        byte[] flips = Model.Crypto.xts(true, new byte[32], number, plain);
+        byte[] raw = raw(number);
+        for (int i = 0; i < 256; i++) {
+            flips[i] ^= raw[i];
+        }
+        return flips;
     }
 
     /** A block as it is on the DISK. */

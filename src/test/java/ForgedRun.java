@@ -7,14 +7,14 @@ import java.util.function.Consumer;
  * A random run in which the DISK is altered behind right DIGESTS, as if other blocks had them, too: what is
  * answered then must be the same on a LyingDisk and on the Model.
  */
-final class ForgedRun extends RandomRun {
+class ForgedRun extends RandomRun {
     private static final int TABLE_IN_ROOT = 8;
     private static final int MAP_IN_ROOT = 64;
 
-    private final Forge forge = Forge.of(real);
+    final Forge forge = Forge.of(real);
     /** POINTERS that were seen, each with its DIGEST, to be put where they do not belong. */
     private final List<byte[]> seen = new ArrayList<>();
-    private final List<Integer> way = new ArrayList<>();
+    final List<Integer> way = new ArrayList<>();
     private byte[] block = new byte[256];
 
     ForgedRun(long seed, boolean deep) {
@@ -43,7 +43,7 @@ final class ForgedRun extends RandomRun {
         }
     }
 
-    private void compareCounts() {
+    void compareCounts() {
         for (int what = 0; deep && what < 12; what++) {
             call("count", what);
         }
@@ -58,7 +58,7 @@ final class ForgedRun extends RandomRun {
     }
 
     /** From ROOT on down to a block somewhere in the tree, which is altered. */
-    private void forgeBlock() {
+    void forgeBlock() {
         way.clear();
         block = forge.root();
         if (chance(15) || !goDown(TABLE_IN_ROOT)) {
@@ -102,9 +102,13 @@ final class ForgedRun extends RandomRun {
         return true;
     }
 
-    private void alter(String what, Consumer<byte[]> change) {
+    void alter(String what, Consumer<byte[]> change) {
         log.add("forged: " + what + " behind " + way);
-        forge.alter(change, way.stream().mapToInt(i -> i).toArray());
+        forge.alter(change, wayDown());
+    }
+
+    int[] wayDown() {
+        return way.stream().mapToInt(i -> i).toArray();
     }
 
     private void alterAnything() {

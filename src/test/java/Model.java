@@ -60,6 +60,7 @@ final class Model {
     static final class Way {
         final List<Integer> inodes = new ArrayList<>();
         byte[] inode;
+        byte[] parentInode;
         int entry = -1;
         boolean found;
         boolean parentFound;
@@ -88,6 +89,9 @@ final class Model {
     private List<Flip> flips = new ArrayList<>();
 
     private boolean mounted;
+    /** The DIGEST of all blocks, if two different ones shall have one; else null. */
+    private byte[] oneDigest;
+
     private int capacity;
     private long commits;
     private byte[] table = new byte[36];
@@ -148,7 +152,7 @@ final class Model {
         rootBlock = -1;
         commits = 0;
         new Spot(table, 0).setNone();
-        byte[] inode = changeInode(0).bytes();
+        byte[] inode = changeInode(0, new byte[64]).bytes();
         inode[0] = 2;
         new Spot(inode, 8).setNone();
         commit();
@@ -171,7 +175,7 @@ final class Model {
     private int mountNow(int c) {
         attempt();
         byte[] raw = disk[rootBlock];
-        if (!Arrays.equals(Crypto.sha(raw), rootDigest)) {
+        if (!Arrays.equals(digest(raw), rootDigest)) {
             throw tampered();
         }
         byte[] root = Crypto.xts(false, key, rootBlock, raw);
@@ -213,18 +217,19 @@ final class Model {
             if (size(way.inode) == 2048) {
                 return -10;
             }
-            int number = freeInode();
+            byte[] unused = new byte[64];
+            int number = freeInode(unused);
             if (number < 0) {
                 return -10;
             }
             if (free() < 24) {
                 return -9;
             }
-            Spot inode = changeInode(number);
+            Spot inode = changeInode(number, unused);
             Arrays.fill(inode.bytes(), inode.at(), inode.at() + 64, (byte) 0);
             inode.bytes()[inode.at()] = (byte) sort;
             new Spot(inode.bytes(), inode.at() + 8).setNone();
-            putEntry(way.parent(), number, names.get(names.size() - 1));
+            putEntry(changeInode(way.parent(), way.parentInode), number, names.get(names.size() - 1));
             return number;
         });
     }
@@ -242,10 +247,10 @@ final class Model {
             if (free() < 24) {
                 return -9;
             }
-            Spot inode = changeInode(way.last());
+            Spot inode = changeInode(way.last(), way.inode);
             resize(inode, 0);
             Arrays.fill(inode.bytes(), inode.at(), inode.at() + 64, (byte) 0);
-            dropEntry(way.parent(), way.entry);
+            dropEntry(changeInode(way.parent(), way.parentInode), way.entry);
             return way.last();
         });
     }
@@ -278,8 +283,12 @@ final class Model {
             if (free() < 24) {
                 return -9;
             }
-            dropEntry(old.parent(), old.entry);
-            putEntry(goal.parent(), old.last(), to.get(to.size() - 1));
+            Spot directory = changeInode(old.parent(), old.parentInode);
+            dropEntry(directory, old.entry);
+            if (goal.parent() != old.parent()) {
+                directory = changeInode(goal.parent(), goal.parentInode);
+            }
+            putEntry(directory, old.last(), to.get(to.size() - 1));
             return old.last();
         });
     }
@@ -308,7 +317,7 @@ final class Model {
             if (free() < 2 * (last - first + 1) + 24) {
                 return -9;
             }
-            Spot inode = changeInode(way.last());
+            Spot inode = changeInode(way.last(), way.inode);
             if (stop > sizeAt(inode)) {
                 resize(inode, (int) stop);
             }
@@ -346,7 +355,7 @@ final class Model {
             if (free() < 2 * ((greater - 1) / 256 - lesser / 256 + 1) + 24) {
                 return -9;
             }
-            resize(changeInode(way.last()), n);
+            resize(changeInode(way.last(), way.inode), n);
             return n;
         });
     }
@@ -483,6 +492,14 @@ final class Model {
         rootDigest = digest;
     }
 
+    void giveAllOneDigest(byte[] digest) {
+        oneDigest = digest;
+    }
+
+    private byte[] digest(byte[] raw) {
+        return oneDigest == null ? Crypto.sha(raw) : oneDigest;
+    }
+
     // ---- arguments and answers
 
     private interface Act {
@@ -572,6 +589,9 @@ final class Model {
             number++;
         }
         if (number >= disk.length) {
+            if (oneDigest != null) {
+                throw tampered();
+            }
             throw new AssertionError("no block is left, though it was not full");
         }
         working.add(number);
@@ -593,7 +613,7 @@ final class Model {
         byte[] plain = cache.get(number);
         if (plain == null) {
             attempt();
-            if (!Arrays.equals(Crypto.sha(disk[number]), p.digest())) {
+            if (!Arrays.equals(digest(disk[number]), p.digest())) {
                 throw tampered();
             }
             plain = Crypto.xts(false, key, number, disk[number]);
@@ -718,8 +738,13 @@ final class Model {
         return new Spot(inode.bytes(), inode.at() + 8);
     }
 
-    private Spot changeInode(int number) {
-        return new Spot(changeData(new Spot(table, 0), 2, number / 4, Holds.INODES), number % 4 * 64);
+    /** What changes must be what was read before: its block may be read for the second time. */
+    private Spot changeInode(int number, byte[] read) {
+        Spot inode = new Spot(changeData(new Spot(table, 0), 2, number / 4, Holds.INODES), number % 4 * 64);
+        if (!Arrays.equals(inode.bytes(), inode.at(), inode.at() + 64, read, 0, 64)) {
+            throw tampered();
+        }
+        return inode;
     }
 
     private byte[] readInode(int number) {
@@ -739,11 +764,13 @@ final class Model {
         return inode;
     }
 
-    private int freeInode() {
+    /** Its bytes, as they were read, come to the array. */
+    private int freeInode(byte[] unused) {
         for (int b = 0; b < 32; b++) {
             byte[] block = data(new Spot(table, 0), 2, b, Holds.INODES);
             for (int k = 0; k < 4; k++) {
                 if (block == null || block[64 * k] == 0) {
+                    System.arraycopy(block == null ? new byte[256] : block, 64 * k, unused, 0, 64);
                     return 4 * b + k;
                 }
             }
@@ -832,6 +859,7 @@ final class Model {
             if (way.inode[0] != 2) {
                 return way;
             }
+            way.parentInode = way.inode;
             int number = -1;
             byte[] wanted = entryOf(0, names.get(k));
             int end = 3 + names.get(k).length;
@@ -866,16 +894,14 @@ final class Model {
         return entry;
     }
 
-    private void putEntry(int directory, int number, byte[] name) {
-        Spot inode = changeInode(directory);
+    private void putEntry(Spot inode, int number, byte[] name) {
         int at = sizeAt(inode);
         resize(inode, at + 32);
         byte[] block = changeData(tree(inode), heightAt(inode), at / 256);
         System.arraycopy(entryOf(number, name), 0, block, at % 256, 32);
     }
 
-    private void dropEntry(int directory, int entry) {
-        Spot inode = changeInode(directory);
+    private void dropEntry(Spot inode, int entry) {
         int last = sizeAt(inode) - 32;
         if (last != 32 * entry) {
             byte[] block = data(tree(inode), heightAt(inode), last / 256);
@@ -915,7 +941,7 @@ final class Model {
         }
         attempt();
         disk[block] = Crypto.xts(true, key, block, root);
-        byte[] digest = Crypto.sha(disk[block]);
+        byte[] digest = digest(disk[block]);
         attempt();
         rootBlock = block;
         rootDigest = digest;
@@ -933,7 +959,7 @@ final class Model {
         }
         attempt();
         disk[p.number()] = Crypto.xts(true, key, p.number(), block);
-        p.set(p.number(), Crypto.sha(disk[p.number()]));
+        p.set(p.number(), digest(disk[p.number()]));
     }
 
     /** The library's SHA-256 and AES, the latter in XTS mode. */

@@ -14,6 +14,9 @@ import java.util.Random;
  */
 class RandomRun {
     static final int CALLS = 512;
+    /** What the document has calls throw: nothing else may reach a caller, even if the Model throws it, too. */
+    private static final List<String> THROWN = List.of("throws.IllegalStateException", "throws.IllegalArgumentException",
+        "throws.IndexOutOfBoundsException", "throws.NoSuchElementException");
     private static final Map<String, Method> REAL = methodsOf(LyingDisk.class);
     private static final Map<String, Method> DUE = methodsOf(Model.class);
 
@@ -67,7 +70,7 @@ class RandomRun {
         String text = name + Arrays.toString(args).replace('[', '(').replace(']', ')');
         log.add(text + " -> " + got);
         lastAnswer = name.equals("count") ? lastAnswer : got;
-        if (!got.equals(due)) {
+        if (!got.equals(due) || got.startsWith("throws.") && !THROWN.contains(got)) {
             log.add("  due is " + due);
             same = false;
         }
